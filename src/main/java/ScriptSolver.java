@@ -188,7 +188,11 @@ public final class ScriptSolver {
                     result = session.check(command);
                     break;
                 case GET_VALUE:
-                    result = session.getValue();
+                    result = session.ask();
+                    if (result >= 0) {
+                        session.fixModel();
+                        session.printValues();
+                    }
                     break;
                 case GET_UNSAT_CORE:
                     result = session.getCore();
@@ -1912,6 +1916,12 @@ public final class ScriptSolver {
         }
 
         private int difference(int t) {
+            int sort = terms.sort[terms.part(t, 0)];
+            int w = widthOf(sort);
+            // More parts than values: a search would find that out the hard way.
+            if (!isOpen(sort) && w < 13 && terms.size[t] > (sort == MODE_SORT ? 5 : 1 << w)) {
+                return words.number(1, 0);
+            }
             int result = words.number(1, 1);
             for (int k = 1; k < terms.size[t]; k++) {
                 for (int m = 0; m < k; m++) {
@@ -2205,8 +2215,15 @@ public final class ScriptSolver {
                     convert(op, x, sort, terms.sort[t]);
                     break;
                 default:
-                    takeApart(right, word(t, 2), sort);
-                    ofTwo(op, mode, x, word(t, 2), sort);
+                    int y = word(t, 2);
+                    if (op == FP_ADD && x > y) {
+                        takeApart(left, y, sort);
+                        takeApart(right, x, sort);
+                        ofTwo(op, mode, y, x, sort);
+                    } else {
+                        takeApart(right, y, sort);
+                        ofTwo(op, mode, x, y, sort);
+                    }
                     break;
             }
             return rounded(mode, exponentOf(terms.sort[t]), significandOf(terms.sort[t]));
@@ -2757,19 +2774,20 @@ public final class ScriptSolver {
                     }
                 }
             }
-            while (blasted < words.count) {
-                blast();
+            for (int n = blasted; n < words.count; n++) {
+                blast(n);
             }
+            blasted = words.count;
             sat.grow(net.variables);
-            while (emitted < net.count) {
-                emit(emitted);
-                emitted++;
+            for (int g = emitted; g < net.count; g++) {
+                emit(g);
             }
-            while (stated < words.facts) {
-                row[0] = bit(words.fact[stated], 0);
+            emitted = net.count;
+            for (int k = stated; k < words.facts; k++) {
+                row[0] = bit(words.fact[k], 0);
                 isFull |= !sat.add(row, 1);
-                stated++;
             }
+            stated = words.facts;
             sat.settle();
             return terms.word[t];
         }
@@ -2850,10 +2868,12 @@ public final class ScriptSolver {
 
         /** The clauses of a gate that is true if its n literals from start on are. */
         private void emitAll(int o, int start, int n) {
-            for (int k = 0; k < n; k++) {
-                say(o ^ 1, net.many[start + k], Net.FALSE, Net.FALSE);
-            }
             row = roomFor(row, n + 1);
+            for (int k = 0; k < n; k++) {
+                row[0] = o ^ 1;
+                row[1] = net.many[start + k];
+                isFull |= !sat.add(row, 2);
+            }
             row[0] = o;
             for (int k = 0; k < n; k++) {
                 row[k + 1] = net.many[start + k] ^ 1;
@@ -2879,12 +2899,10 @@ public final class ScriptSolver {
             top += width;
         }
 
-        /** The next word gets its bits. */
-        private void blast() {
-            int n = blasted;
+        /** A word gets its bits. */
+        private void blast(int n) {
             int op = words.op[n];
             aim(n, op);
-            blasted++;
             switch (op) {
                 case Words.SUM:
                     add(bits[first[words.c[n]]]);
@@ -3264,7 +3282,7 @@ public final class ScriptSolver {
         static final int HEAD = 4;
         private static final int NONE = -1;
         private static final int CONFLICT = -2;
-        private static final int LIMIT = 1 << 21;
+        private static final int LIMIT = 3 << 19;
         private static final int WORST_RANK = 63;
 
         int[] row = new int[8192];
@@ -3732,13 +3750,9 @@ public final class ScriptSolver {
             backTo(n);
             if (clauses.learned > learnedLimit) {
                 learnedLimit += learnedLimit / 8;
-                reduce();
+                backTo(0);
+                clauses.reduce(value, 2 * variables);
             }
-        }
-
-        private void reduce() {
-            backTo(0);
-            clauses.reduce(value, 2 * variables);
         }
 
         private void keepModel() {
@@ -3831,7 +3845,8 @@ public final class ScriptSolver {
             choice.decay();
             int ref = n == 1 ? NONE : clauses.store(clause, n, rank);
             if (n > 1 && ref == NONE) {
-                reduce();
+                backTo(0);
+                clauses.reduce(value, 2 * variables);
             } else {
                 set(clause[0], ref);
             }
@@ -3943,6 +3958,7 @@ public final class ScriptSolver {
         private final int[] part = new int[6];
         private int parts;
         private int[] asked = new int[16];
+        private int askedCount;
         private int[] supposed = new int[16];
         private int supposedCount;
         /** How many literals the search assumes; of a model that is given, its bits, too. */
@@ -4253,28 +4269,28 @@ public final class ScriptSolver {
 
         /** check-sat and check-sat-assuming. */
         int check(int command) {
-            boolean isAssuming = command == CHECK_SAT_ASSUMING;
-            if (isAssuming ? parts != 2 || !isPart(1, Tape.OPEN) : parts != 1) {
+            askedCount = 0;
+            if (command == CHECK_SAT ? parts != 1 : parts != 2 || !isPart(1, Tape.OPEN)) {
                 return NO_COMMAND;
             }
-            int n = 0;
-            for (int t = isAssuming ? part[1] + 1 : 0; isAssuming && t < tape.mate[part[1]]; t = tape.after(t)) {
+            int list = command == CHECK_SAT ? 0 : part[1];
+            for (int t = list + 1; list > 0 && t < tape.mate[list]; t = tape.after(t)) {
                 int term = reader.term(t);
                 if (term < 0) {
                     return term;
                 }
-                asked = roomFor(asked, n + 1);
-                asked[n] = term;
-                n++;
+                asked = roomFor(asked, askedCount + 1);
+                asked[askedCount] = term;
+                askedCount++;
             }
-            for (int k = 0; k < n; k++) {
+            for (int k = 0; k < askedCount; k++) {
                 if (terms.sort[asked[k]] != BOOL_SORT) {
                     return NO_SORT;
                 }
             }
-            supposed = roomFor(supposed, n);
-            System.arraycopy(asked, 0, supposed, 0, n);
-            supposedCount = n;
+            supposed = roomFor(supposed, askedCount);
+            System.arraycopy(asked, 0, supposed, 0, askedCount);
+            supposedCount = askedCount;
             for (int k = 0; k < claims; k++) {
                 int literal = encoder.bit(encoder.encode(claim[CLAIM * k]), 0);
                 boolean isForGood = claim[CLAIM * k + 1] == 0 && claim[CLAIM * k + 2] < 0;
@@ -4283,7 +4299,7 @@ public final class ScriptSolver {
                     claim[CLAIM * k + 3] |= STATED;
                 }
             }
-            for (int k = 0; k < n; k++) {
+            for (int k = 0; k < supposedCount; k++) {
                 encoder.encode(supposed[k]);
             }
             assumeAll(-1);
@@ -4311,11 +4327,13 @@ public final class ScriptSolver {
             assumed = 0;
             for (int k = 0; k < claims; k++) {
                 if (k != without && (claim[CLAIM * k + 3] & (STATED | LEFT_OUT)) == 0) {
-                    assume(literalOf(claim[CLAIM * k]));
+                    sat.assume(assumed, literalOf(claim[CLAIM * k]));
+                    assumed++;
                 }
             }
             for (int k = 0; k < supposedCount; k++) {
-                assume(literalOf(supposed[k]));
+                sat.assume(assumed, literalOf(supposed[k]));
+                assumed++;
             }
         }
 
@@ -4323,57 +4341,37 @@ public final class ScriptSolver {
             return encoder.bit(terms.word[term], 0);
         }
 
-        private void assume(int literal) {
-            if (literal != Net.TRUE) {
-                sat.assume(assumed, literal);
-                assumed++;
-            }
-        }
-
-        /** get-value. */
-        int getValue() {
+        /** get-value, up to the values. */
+        int ask() {
             if (parts != 2 || !isPart(1, Tape.OPEN) || tape.kind[part[1] + 1] == Tape.CLOSE) {
                 return NO_COMMAND;
             }
-            int n = 0;
-            int stop = tape.mate[part[1]];
-            for (int t = part[1] + 1; t < stop; t = tape.after(t)) {
+            askedCount = 0;
+            for (int t = part[1] + 1; t < tape.mate[part[1]]; t = tape.after(t)) {
                 int term = reader.term(t);
                 if (term < 0) {
                     return term;
                 }
-                asked = roomFor(asked, n + 1);
-                asked[n] = term;
-                n++;
+                asked = roomFor(asked, askedCount + 1);
+                asked[askedCount] = term;
+                askedCount++;
             }
             if (mode != SAT_MODE) {
                 return NO_MODEL;
             }
-            for (int k = 0; k < n; k++) {
+            for (int k = 0; k < askedCount; k++) {
                 if (isOpen(terms.sort[asked[k]])) {
                     return NO_VALUE;
                 }
             }
-            for (int k = 0; k < n; k++) {
+            for (int k = 0; k < askedCount; k++) {
                 encoder.encode(asked[k]);
             }
-            fixModel(n);
-            page.put('(');
-            int t = part[1] + 1;
-            for (int k = 0; k < n; k++) {
-                page.text(k == 0 ? "(" : " (");
-                page.expression(tape, t);
-                page.put(' ');
-                printValue(terms.sort[asked[k]], terms.word[asked[k]]);
-                page.put(')');
-                t = tape.after(t);
-            }
-            page.line(")");
             return DONE;
         }
 
         /** The constants, then the TERMS that are asked, get the least values that they can have. */
-        private void fixModel(int n) {
+        void fixModel() {
             pinned = roomFor(pinned, sat.variables);
             if (sat.solve(assumed) != Sat.SAT || encoder.isBroken()) {
                 givenUp++;
@@ -4390,12 +4388,27 @@ public final class ScriptSolver {
                     }
                 }
             }
-            for (int k = 0; k < n; k++) {
+            for (int k = 0; k < askedCount; k++) {
                 makeLeast(terms.word[asked[k]]);
             }
             if (!sat.isModel(assumed)) {
                 falseModels++;
             }
+        }
+
+        /** Each TERM that was asked, as it is written, and its value. */
+        void printValues() {
+            page.put('(');
+            int t = part[1] + 1;
+            for (int k = 0; k < askedCount; k++) {
+                page.text(k == 0 ? "(" : " (");
+                page.expression(tape, t);
+                page.put(' ');
+                printValue(terms.sort[asked[k]], terms.word[asked[k]]);
+                page.put(')');
+                t = tape.after(t);
+            }
+            page.line(")");
         }
 
         /** Each bit of a word, the highest first, becomes 0 if it can. */
