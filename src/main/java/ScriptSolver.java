@@ -146,13 +146,11 @@ public final class ScriptSolver {
     private static final int OPEN_SORT = 1024;
 
     private final Tape tape;
-    private final Page page;
     private final Session session;
 
     public ScriptSolver() {
         tape = new Tape();
-        page = new Page();
-        session = new Session(tape, page);
+        session = new Session(tape);
     }
 
     public int feed(int a, int b, int c, int d, int e) throws IndexOutOfBoundsException {
@@ -176,7 +174,7 @@ public final class ScriptSolver {
     }
 
     public int run() {
-        page.length = 0;
+        tape.resultLength = 0;
         int done = 0;
         int found = tape.take();
         for (int i = 0; i <= Tape.LIMIT && found == Tape.WHOLE; i++) {
@@ -212,7 +210,7 @@ public final class ScriptSolver {
             found = tape.take();
         }
         if (found == Tape.NONE) {
-            page.error("syntax");
+            tape.printError("syntax");
             tape.clear();
             done++;
         }
@@ -221,12 +219,12 @@ public final class ScriptSolver {
     }
 
     public long word(int i) throws IndexOutOfBoundsException {
-        if (i < 0 || i >= page.length) {
+        if (i < 0 || i >= tape.resultLength) {
             throw new IndexOutOfBoundsException("no byte of the result");
         }
         long answer = 0;
         for (int k = 0; k < 8; k++) {
-            int next = i + k < page.length ? page.bytes[i + k] & 255 : 0;
+            int next = i + k < tape.resultLength ? tape.result[i + k] & 255 : 0;
             answer = answer << 8 | next;
         }
         return answer;
@@ -237,7 +235,7 @@ public final class ScriptSolver {
             case 0:
                 return tape.length;
             case 1:
-                return page.length;
+                return tape.resultLength;
             case 2:
                 return session.level;
             case 3:
@@ -331,9 +329,10 @@ public final class ScriptSolver {
         return sort == MODE_SORT ? 3 : 1;
     }
 
-    /** THE TAPE, and the TOKENS of the EXPRESSION that was taken from it last. */
+    /** THE TAPE, the TOKENS of the EXPRESSION that was taken from it last, and THE RESULT. */
     private static final class Tape {
         static final int LIMIT = 65536;
+        static final int RESULT_LIMIT = 16384;
         static final int DEEPEST = 100;
         static final int SYMBOL = 0;
         static final int NUMERAL = 1;
@@ -352,6 +351,8 @@ public final class ScriptSolver {
 
         byte[] bytes = new byte[1024];
         int length;
+        byte[] result = new byte[512];
+        int resultLength;
         int tokens;
         int[] kind = new int[256];
         int[] from = new int[256];
@@ -657,55 +658,47 @@ public final class ScriptSolver {
             }
             return sum;
         }
-    }
-
-    /** THE RESULT. */
-    private static final class Page {
-        static final int LIMIT = 16384;
-
-        byte[] bytes = new byte[512];
-        int length;
 
         void put(int c) {
-            if (length >= LIMIT) {
+            if (resultLength >= RESULT_LIMIT) {
                 return;
             }
-            bytes = roomFor(bytes, length + 1);
-            bytes[length] = (byte) c;
-            length++;
+            result = roomFor(result, resultLength + 1);
+            result[resultLength] = (byte) c;
+            resultLength++;
         }
 
-        void text(String s) {
+        void print(String s) {
             for (int i = 0; i < s.length(); i++) {
                 put(s.charAt(i));
             }
         }
 
-        void copy(byte[] source, int from, int to) {
-            for (int i = from; i < to; i++) {
+        void printBytes(byte[] source, int start, int stop) {
+            for (int i = start; i < stop; i++) {
                 put(source[i]);
             }
         }
 
-        void line(String s) {
-            text(s);
+        void printLine(String s) {
+            print(s);
             put(10);
         }
 
-        void error(String what) {
-            text("(error \"");
-            text(what);
-            line("\")");
+        void printError(String what) {
+            print("(error \"");
+            print(what);
+            printLine("\")");
         }
 
         /** An EXPRESSION as it is written, with one blank where its TOKENS need or had some. */
-        void expression(Tape tape, int token) {
-            int stop = tape.after(token);
+        void printExpression(int token) {
+            int stop = after(token);
             for (int t = token; t < stop; t++) {
-                if (t > token && tape.kind[t] != Tape.CLOSE && tape.kind[t - 1] != Tape.OPEN) {
+                if (t > token && kind[t] != CLOSE && kind[t - 1] != OPEN) {
                     put(' ');
                 }
-                copy(tape.bytes, tape.from[t], tape.to[t]);
+                printBytes(bytes, from[t], to[t]);
             }
         }
     }
@@ -1774,7 +1767,7 @@ public final class ScriptSolver {
             this.words = words;
         }
 
-        private int word(int t, int k) {
+        private int wordAt(int t, int k) {
             return terms.word[terms.part(t, k)];
         }
 
@@ -1876,18 +1869,18 @@ public final class ScriptSolver {
         private int sameIfParts(int t, int k, int result) {
             int same = words.number(1, 1);
             for (int n = 0; n < terms.size[t]; n++) {
-                same = words.and(same, words.equal(word(t, n), word(k, n)));
+                same = words.and(same, words.equal(wordAt(t, n), wordAt(k, n)));
             }
             return words.or(words.not(same), words.equal(result, terms.word[k]));
         }
 
         int coreWord(int t) {
-            int x = word(t, 0);
+            int x = wordAt(t, 0);
             switch (terms.op[t]) {
                 case NOT:
                     return words.not(x);
                 case ITE:
-                    return words.ite(x, word(t, 1), word(t, 2));
+                    return words.ite(x, wordAt(t, 1), wordAt(t, 2));
                 case IMPLIES:
                     return implication(t);
                 case EQUAL:
@@ -1900,17 +1893,17 @@ public final class ScriptSolver {
         }
 
         private int implication(int t) {
-            int result = word(t, terms.size[t] - 1);
+            int result = wordAt(t, terms.size[t] - 1);
             for (int k = terms.size[t] - 2; k >= 0; k--) {
-                result = words.or(words.not(word(t, k)), result);
+                result = words.or(words.not(wordAt(t, k)), result);
             }
             return result;
         }
 
         private int equality(int t) {
-            int result = words.equal(word(t, 0), word(t, 1));
+            int result = words.equal(wordAt(t, 0), wordAt(t, 1));
             for (int k = 2; k < terms.size[t]; k++) {
-                result = words.and(result, words.equal(word(t, k - 1), word(t, k)));
+                result = words.and(result, words.equal(wordAt(t, k - 1), wordAt(t, k)));
             }
             return result;
         }
@@ -1925,7 +1918,7 @@ public final class ScriptSolver {
             int result = words.number(1, 1);
             for (int k = 1; k < terms.size[t]; k++) {
                 for (int m = 0; m < k; m++) {
-                    result = words.and(result, words.not(words.equal(word(t, m), word(t, k))));
+                    result = words.and(result, words.not(words.equal(wordAt(t, m), wordAt(t, k))));
                 }
             }
             return result;
@@ -1933,9 +1926,9 @@ public final class ScriptSolver {
 
         /** OPERATIONS that take their parts one by one, from the left. */
         private int chain(int t) {
-            int result = word(t, 0);
+            int result = wordAt(t, 0);
             for (int k = 1; k < terms.size[t]; k++) {
-                int x = word(t, k);
+                int x = wordAt(t, k);
                 switch (terms.op[t]) {
                     case AND:
                     case BVAND:
@@ -1964,7 +1957,7 @@ public final class ScriptSolver {
 
         /** OPERATIONS that give a part of a bit-vector another place. */
         int shapeWord(int t) {
-            int x = word(t, 0);
+            int x = wordAt(t, 0);
             int w = words.width[x];
             int k = terms.i[t];
             switch (terms.op[t]) {
@@ -1981,9 +1974,9 @@ public final class ScriptSolver {
                     }
                     return result;
                 default:
-                    int left = k % w;
+                    int left = w > 0 ? k % w : 0;
                     if (terms.op[t] == ROTATE_RIGHT) {
-                        left = (w - left) % w;
+                        left = left == 0 ? 0 : w - left;
                     }
                     return left == 0 ? x : words.join(words.part(x, w - 1 - left, 0), words.part(x, w - 1, w - left));
             }
@@ -1994,14 +1987,14 @@ public final class ScriptSolver {
             if (op >= BVULT) {
                 return orderWord(t);
             }
-            int x = word(t, 0);
+            int x = wordAt(t, 0);
             if (op == BVNOT) {
                 return words.not(x);
             }
             if (op == BVNEG) {
                 return words.negative(x);
             }
-            int y = word(t, 1);
+            int y = wordAt(t, 1);
             int w = words.width[x];
             switch (op) {
                 case BVNAND:
@@ -2053,8 +2046,8 @@ public final class ScriptSolver {
 
         private int orderWord(int t) {
             int op = terms.op[t];
-            int x = word(t, 0);
-            int y = word(t, 1);
+            int x = wordAt(t, 0);
+            int y = wordAt(t, 1);
             if (op >= BVSLT) {
                 int flip = words.number(words.width[x], 1L << words.width[x] - 1);
                 x = words.xor(x, flip);
@@ -2081,9 +2074,9 @@ public final class ScriptSolver {
         int exactWord(int t) {
             int op = terms.op[t];
             int sort = terms.sort[terms.part(t, 0)];
-            int x = word(t, 0);
+            int x = wordAt(t, 0);
             if (op == FP) {
-                return canonical(words.join(words.join(x, word(t, 1)), word(t, 2)), terms.sort[t]);
+                return canonical(words.join(words.join(x, wordAt(t, 1)), wordAt(t, 2)), terms.sort[t]);
             }
             if (op == TO_FP) {
                 return canonical(x, terms.sort[t]);
@@ -2092,7 +2085,7 @@ public final class ScriptSolver {
             if (op <= FP_NEG || op >= FP_IS_NORMAL) {
                 return ofOne(op, x, sort);
             }
-            int y = word(t, 1);
+            int y = wordAt(t, 1);
             takeApart(right, y, sort);
             switch (op) {
                 case FP_MIN:
@@ -2196,8 +2189,8 @@ public final class ScriptSolver {
         int roundedWord(int t) {
             int op = terms.op[t];
             int sort = terms.sort[terms.part(t, 1)];
-            int x = word(t, 1);
-            int mode = word(t, 0);
+            int x = wordAt(t, 1);
+            int mode = wordAt(t, 0);
             if (isFloat(sort)) {
                 takeApart(left, x, sort);
             }
@@ -2215,7 +2208,7 @@ public final class ScriptSolver {
                     convert(op, x, sort, terms.sort[t]);
                     break;
                 default:
-                    int y = word(t, 2);
+                    int y = wordAt(t, 2);
                     if (op == FP_ADD && x > y) {
                         takeApart(left, y, sort);
                         takeApart(right, x, sort);
@@ -3284,12 +3277,14 @@ public final class ScriptSolver {
         private static final int CONFLICT = -2;
         private static final int LIMIT = 3 << 19;
         private static final int WORST_RANK = 63;
+        private static final int FIRST_LEARNED = 2000;
 
         int[] row = new int[8192];
         int top;
         /** By literal: the first clause that watches it. */
         int[] watch = new int[1024];
-        int learned;
+        private int learned;
+        private int learnedLimit = FIRST_LEARNED;
         /** Clauses that were learned and do not follow from those that they name. */
         int faults;
         private final int[] ranks = new int[WORST_RANK + 1];
@@ -3302,6 +3297,11 @@ public final class ScriptSolver {
         void clear() {
             top = 0;
             learned = 0;
+            learnedLimit = FIRST_LEARNED;
+        }
+
+        boolean isCrowded() {
+            return learned > learnedLimit;
         }
 
         void grow(int from, int literals) {
@@ -3340,6 +3340,7 @@ public final class ScriptSolver {
 
         /** Leaves out the worse half of what was learned, and all that is settled at level 0, where this is called. */
         void reduce(int[] value, int literals) {
+            learnedLimit += learnedLimit / 8;
             Arrays.fill(ranks, 0);
             for (int ref = 0; ref < top; ref += HEAD + row[ref]) {
                 ranks[Math.min(WORST_RANK, row[ref + 3])]++;
@@ -3471,7 +3472,6 @@ public final class ScriptSolver {
         private static final int CONFLICT_LIMIT = 1000000;
         private static final int STEP_LIMIT = 1000000000;
         private static final int RESTART = 64;
-        private static final int FIRST_LEARNED = 2000;
 
         final Clauses clauses = new Clauses();
         int variables;
@@ -3496,7 +3496,6 @@ public final class ScriptSolver {
         private int[] model = new int[512];
         private int[] assumed = new int[64];
         private int held;
-        private int learnedLimit = FIRST_LEARNED;
         private boolean isDead;
 
         Sat() {
@@ -3512,7 +3511,6 @@ public final class ScriptSolver {
             levels = 0;
             swept = 0;
             held = 0;
-            learnedLimit = FIRST_LEARNED;
             isDead = false;
             grow(1);
         }
@@ -3748,8 +3746,7 @@ public final class ScriptSolver {
 
         private void restart(int n) {
             backTo(n);
-            if (clauses.learned > learnedLimit) {
-                learnedLimit += learnedLimit / 8;
+            if (clauses.isCrowded()) {
                 backTo(0);
                 clauses.reduce(value, 2 * variables);
             }
@@ -3950,8 +3947,7 @@ public final class ScriptSolver {
         int falseModels;
         int givenUp;
         private final Tape tape;
-        private final Page page;
-        private final Reader reader;
+            private final Reader reader;
         private final Encoder encoder;
         private int[] claim = new int[CLAIM * 16];
         /** The EXPRESSIONS of the COMMAND, and how many there are. */
@@ -3966,9 +3962,8 @@ public final class ScriptSolver {
         private int model;
         private int[] pinned = new int[256];
 
-        Session(Tape tape, Page page) {
+        Session(Tape tape) {
             this.tape = tape;
-            this.page = page;
             reader = new Reader(tape, names, terms);
             encoder = new Encoder(terms, sat);
         }
@@ -3998,28 +3993,28 @@ public final class ScriptSolver {
             terms.restore();
             switch (result) {
                 case NO_SORT:
-                    page.error("sort");
+                    tape.printError("sort");
                     break;
                 case NO_NAME:
-                    page.error("name");
+                    tape.printError("name");
                     break;
                 case FULL:
-                    page.error("full");
+                    tape.printError("full");
                     break;
                 case NO_LEVEL:
-                    page.error("level");
+                    tape.printError("level");
                     break;
                 case NO_MODEL:
-                    page.error("model");
+                    tape.printError("model");
                     break;
                 case NO_VALUE:
-                    page.error("value");
+                    tape.printError("value");
                     break;
                 case NO_CORE:
-                    page.error("core");
+                    tape.printError("core");
                     break;
                 default:
-                    page.error("command");
+                    tape.printError("command");
                     break;
             }
         }
@@ -4058,8 +4053,8 @@ public final class ScriptSolver {
             if (parts != 2 || !isPart(1, Tape.STRING)) {
                 return NO_COMMAND;
             }
-            page.copy(tape.bytes, tape.from[part[1]], tape.to[part[1]]);
-            page.put(10);
+            tape.printBytes(tape.bytes, tape.from[part[1]], tape.to[part[1]]);
+            tape.put(10);
             return DONE;
         }
 
@@ -4311,7 +4306,7 @@ public final class ScriptSolver {
             if (result == Sat.GIVEN_UP || encoder.isBroken()) {
                 givenUp++;
                 mode = NO_MODE;
-                page.line("unknown");
+                tape.printLine("unknown");
                 return;
             }
             if (result == Sat.SAT && !sat.isModel(assumed)) {
@@ -4319,7 +4314,7 @@ public final class ScriptSolver {
             }
             mode = result == Sat.SAT ? SAT_MODE : UNSAT_MODE;
             model++;
-            page.line(result == Sat.SAT ? "sat" : "unsat");
+            tape.printLine(result == Sat.SAT ? "sat" : "unsat");
         }
 
         /** The search is to assume all that is asserted but for one, and what the check assumed. */
@@ -4398,17 +4393,17 @@ public final class ScriptSolver {
 
         /** Each TERM that was asked, as it is written, and its value. */
         void printValues() {
-            page.put('(');
+            tape.put('(');
             int t = part[1] + 1;
             for (int k = 0; k < askedCount; k++) {
-                page.text(k == 0 ? "(" : " (");
-                page.expression(tape, t);
-                page.put(' ');
+                tape.print(k == 0 ? "(" : " (");
+                tape.printExpression(t);
+                tape.put(' ');
                 printValue(terms.sort[asked[k]], terms.word[asked[k]]);
-                page.put(')');
+                tape.put(')');
                 t = tape.after(t);
             }
-            page.line(")");
+            tape.printLine(")");
         }
 
         /** Each bit of a word, the highest first, becomes 0 if it can. */
@@ -4431,7 +4426,7 @@ public final class ScriptSolver {
         private void printValue(int sort, int word) {
             int width = widthOf(sort);
             if (sort == BOOL_SORT) {
-                page.text(sat.isTrue(encoder.bit(word, 0)) ? "true" : "false");
+                tape.print(sat.isTrue(encoder.bit(word, 0)) ? "true" : "false");
             } else if (sort == MODE_SORT) {
                 printMode(word);
             } else if (isFloat(sort)) {
@@ -4442,9 +4437,9 @@ public final class ScriptSolver {
         }
 
         private void printBits(int word, int high, int low) {
-            page.text("#b");
+            tape.print("#b");
             for (int k = high; k >= low; k--) {
-                page.put(sat.isTrue(encoder.bit(word, k)) ? '1' : '0');
+                tape.put(sat.isTrue(encoder.bit(word, k)) ? '1' : '0');
             }
         }
 
@@ -4455,7 +4450,7 @@ public final class ScriptSolver {
                 mode = 2 * mode + (sat.isTrue(encoder.bit(word, k)) ? 1 : 0);
             }
             for (int k = 0; k < 3 && mode < 5; k++) {
-                page.put(modes.charAt(3 * mode + k));
+                tape.put(modes.charAt(3 * mode + k));
             }
         }
 
@@ -4465,23 +4460,23 @@ public final class ScriptSolver {
                 isNaN &= sat.isTrue(encoder.bit(word, k));
             }
             if (isNaN) {
-                page.text("(_ NaN ");
-                page.put('0' + e);
-                page.put(' ');
+                tape.print("(_ NaN ");
+                tape.put('0' + e);
+                tape.put(' ');
                 if (s > 9) {
-                    page.put('1');
+                    tape.put('1');
                 }
-                page.put('0' + s % 10);
-                page.put(')');
+                tape.put('0' + s % 10);
+                tape.put(')');
                 return;
             }
-            page.text("(fp ");
+            tape.print("(fp ");
             printBits(word, e + s - 1, e + s - 1);
-            page.put(' ');
+            tape.put(' ');
             printBits(word, e + s - 2, s - 1);
-            page.put(' ');
+            tape.put(' ');
             printBits(word, s - 2, 0);
-            page.put(')');
+            tape.put(')');
         }
 
         /** get-unsat-core. */
@@ -4502,17 +4497,17 @@ public final class ScriptSolver {
                     claim[CLAIM * k + 3] |= LEFT_OUT;
                 }
             }
-            page.put('(');
+            tape.put('(');
             boolean isFirst = true;
             for (int k = 0; k < claims; k++) {
                 if (claim[CLAIM * k + 2] >= 0 && (claim[CLAIM * k + 3] & LEFT_OUT) == 0) {
-                    page.text(isFirst ? "" : " ");
+                    tape.print(isFirst ? "" : " ");
                     printName(claim[CLAIM * k + 2], (claim[CLAIM * k + 3] & BARRED) != 0);
                     isFirst = false;
                 }
                 claim[CLAIM * k + 3] &= ~LEFT_OUT;
             }
-            page.line(")");
+            tape.printLine(")");
             return DONE;
         }
 
@@ -4525,9 +4520,9 @@ public final class ScriptSolver {
         }
 
         private void printName(int name, boolean isBarred) {
-            page.text(isBarred ? "|" : "");
-            page.copy(names.text, names.textFrom(name), names.textTo(name));
-            page.text(isBarred ? "|" : "");
+            tape.print(isBarred ? "|" : "");
+            tape.printBytes(names.text, names.textFrom(name), names.textTo(name));
+            tape.print(isBarred ? "|" : "");
         }
     }
 }
