@@ -2253,15 +2253,16 @@ public final class ScriptSolver {
 
         /** The greater one first, the lesser one moved to its place with three bits more and what is lost of it. */
         private void add(int mode, int x, int y, int sort) {
+            int e = exponentOf(sort);
             int s = significandOf(sort);
-            int w = widthOf(sort);
+            int w = e + s;
             int swap = words.less(words.part(x, w - 2, 0), words.part(y, w - 2, 0));
             int sign = words.ite(swap, right[SIGN], left[SIGN]);
             int exponent = words.ite(swap, right[EXPONENT], left[EXPONENT]);
             int lesser = words.ite(swap, left[EXPONENT], right[EXPONENT]);
             int big = words.join(words.ite(swap, right[SIGNIFICAND], left[SIGNIFICAND]), words.number(3, 0));
             int small = words.join(words.ite(swap, left[SIGNIFICAND], right[SIGNIFICAND]), words.number(3, 0));
-            int apart = words.minus(exponent, lesser);
+            int apart = words.minus(words.part(exponent, e - 1, 0), words.part(lesser, e - 1, 0));
             int moved = words.wide(words.node(Words.STICKY_RIGHT, s + 3, small, apart, 0), s + 4);
             int differ = words.xor(left[SIGN], right[SIGN]);
             int term = words.ite(differ, words.not(moved), moved);
@@ -2367,7 +2368,7 @@ public final class ScriptSolver {
             int field = words.minus(result[EXPONENT], words.number(E, 1));
             int isSmall = words.sign(field);
             int zero = words.number(E, 0);
-            int by = words.ite(isSmall, words.negative(field), zero);
+            int by = words.part(words.ite(isSmall, words.negative(field), zero), E - 2, 0);
             int top = words.node(Words.TOP, s + 2, result[SIGNIFICAND], 0, 0);
             int moved = words.node(Words.STICKY_RIGHT, s + 2, top, by, 0);
             int kept = words.part(moved, s + 1, 2);
@@ -2389,7 +2390,8 @@ public final class ScriptSolver {
             int s = significandOf(sort);
             int bias = bias(e);
             int behind = words.minus(words.number(E, s - 1 + bias), left[EXPONENT]);
-            int by = words.ite(words.sign(behind), words.number(E, 0), behind);
+            int most = 32 - Integer.numberOfLeadingZeros(s - 1 + bias);
+            int by = words.part(words.ite(words.sign(behind), words.number(E, 0), behind), most - 1, 0);
             int moved = words.node(Words.STICKY_RIGHT, s + 2, words.join(left[SIGNIFICAND], words.number(2, 0)), by, 0);
             int whole = words.part(moved, s + 1, 2);
             int more = isMore(mode, left[SIGN], moved);
@@ -2405,12 +2407,13 @@ public final class ScriptSolver {
         }
 
         private int wholeNumber(int op, int mode, int sort, int m) {
+            int e = exponentOf(sort);
             int s = significandOf(sort);
-            int bias = bias(exponentOf(sort));
+            int bias = bias(e);
             int whole = bias + 1;
             int w = Math.max(s, whole) + 2;
             int start = words.join(left[SIGNIFICAND], words.number(w - s, 0));
-            int by = words.minus(words.number(E, 2 * bias), left[EXPONENT]);
+            int by = words.minus(words.number(e, 2 * bias), words.part(left[EXPONENT], e - 1, 0));
             int moved = words.node(Words.STICKY_RIGHT, w, start, by, 0);
             int top = words.node(Words.TOP, whole + 2, moved, 0, 0);
             int more = isMore(mode, left[SIGN], top);
@@ -3071,8 +3074,13 @@ public final class ScriptSolver {
         private void stickyShift() {
             System.arraycopy(bits, x, bits, at, width);
             int lost = Net.FALSE;
+            int far = Net.FALSE;
             for (int s = 0; s < widthY; s++) {
-                int by = Math.min(width, s < 7 ? 1 << s : 128);
+                int by = s < 7 ? 1 << s : 128;
+                if (by >= width) {
+                    far = net.or(far, bits[y + s]);
+                    continue;
+                }
                 int any = Net.FALSE;
                 for (int k = 0; k < by; k++) {
                     any = net.or(any, bits[at + k]);
@@ -3083,7 +3091,12 @@ public final class ScriptSolver {
                     bits[at + k] = net.mux(bits[y + s], other, bits[at + k]);
                 }
             }
-            bits[at] = net.or(bits[at], lost);
+            int all = Net.FALSE;
+            for (int k = 0; k < width; k++) {
+                all = net.or(all, bits[at + k]);
+                bits[at + k] = net.and(bits[at + k], far ^ 1);
+            }
+            bits[at] = net.or(bits[at], net.or(lost, net.and(all, far)));
         }
 
         private void normalise() {
@@ -3205,7 +3218,7 @@ public final class ScriptSolver {
         }
 
         void decay() {
-            step += step >> 4;
+            step += step >> 5;
             if (step > HEAVIEST) {
                 fade();
             }
@@ -3285,6 +3298,10 @@ public final class ScriptSolver {
         int[] watch = new int[1024];
         private int learned;
         private int learnedLimit = FIRST_LEARNED;
+        /** The ranks of clauses that were learned of late, and of all, in parts of a million. */
+        private long recent;
+        private long usual;
+        private int ranked;
         /** Clauses that were learned and do not follow from those that they name. */
         int faults;
         private final int[] ranks = new int[WORST_RANK + 1];
@@ -3298,10 +3315,25 @@ public final class ScriptSolver {
             top = 0;
             learned = 0;
             learnedLimit = FIRST_LEARNED;
+            recent = 0;
+            usual = 0;
+            ranked = 0;
         }
 
         boolean isCrowded() {
             return learned > learnedLimit;
+        }
+
+        /** What is learned of late is worse than usual, so that the search had better begin anew. */
+        boolean isStuck() {
+            return 100 * recent > 115 * usual;
+        }
+
+        private void noteRank(int rank) {
+            learned++;
+            ranked = Math.min(ranked + 1, 4096);
+            recent += (1000000L * rank - recent) / 32;
+            usual += (1000000L * rank - usual) / ranked;
         }
 
         void grow(int from, int literals) {
@@ -3324,7 +3356,9 @@ public final class ScriptSolver {
             row[ref + 3] = rank;
             System.arraycopy(literals, 0, row, ref + HEAD, n);
             top = stop;
-            learned += rank > 0 ? 1 : 0;
+            if (rank > 0) {
+                noteRank(rank);
+            }
             link(ref);
             return ref;
         }
@@ -3471,7 +3505,7 @@ public final class ScriptSolver {
         private static final int FAILED = -2;
         private static final int CONFLICT_LIMIT = 1000000;
         private static final int STEP_LIMIT = 1000000000;
-        private static final int RESTART = 64;
+        private static final int RESTART = 10;
 
         final Clauses clauses = new Clauses();
         int variables;
@@ -3700,21 +3734,18 @@ public final class ScriptSolver {
             limit = roomFor(limit, n + variables + 2);
             mark = roomFor(mark, n + variables + 2);
             int conflicts = 0;
-            int restarts = 1;
-            int left = RESTART;
+            int start = 0;
             for (int step = 0; step < STEP_LIMIT && conflicts < CONFLICT_LIMIT && !isDead; step++) {
                 int conflict = propagate();
                 if (conflict != NONE) {
                     conflicts++;
-                    left--;
                     if (levels == 0) {
                         isDead = true;
                     } else {
                         learn(conflict);
                     }
-                } else if (left <= 0) {
-                    restarts++;
-                    left = RESTART * luby(restarts);
+                } else if (conflicts - start >= RESTART && clauses.isStuck()) {
+                    start = conflicts;
                     restart(n);
                 } else {
                     int x = nextLiteral(n);
@@ -3729,19 +3760,6 @@ public final class ScriptSolver {
             }
             coreSize = isDead ? 0 : coreSize;
             return isDead ? UNSAT : GIVEN_UP;
-        }
-
-        /** How long to wait for the n-th restart: 1 1 2 1 1 2 4 1 1 2 .. */
-        private static int luby(int n) {
-            int rest = n;
-            for (int k = 0; k < 32; k++) {
-                int high = 31 - Integer.numberOfLeadingZeros(rest + 1);
-                if (rest + 1 == 1 << high) {
-                    return 1 << high - 1;
-                }
-                rest -= (1 << high) - 1;
-            }
-            return 1;
         }
 
         private void restart(int n) {
