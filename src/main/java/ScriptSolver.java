@@ -1774,9 +1774,9 @@ public final class ScriptSolver {
         /** Room for all words that a TERM can need, its parts' pairs and its function's other TERMS too. */
         void makeRoom(int t) {
             int n = terms.size[t];
-            int pairs = terms.op[t] == DISTINCT ? n * n : n;
-            if (terms.op[t] == FUNCTION) {
-                pairs = (n + 2) * terms.count;
+            int pairs = terms.op[t] == DISTINCT ? n * n / 2 : n;
+            for (int k = 0; n > 0 && terms.op[t] == FUNCTION && k < terms.count; k++) {
+                pairs += terms.op[k] == FUNCTION && terms.i[k] == terms.i[t] ? n + 2 : 0;
             }
             words.makeRoom(512 + 4 * pairs);
         }
@@ -3965,7 +3965,7 @@ public final class ScriptSolver {
         int falseModels;
         int givenUp;
         private final Tape tape;
-            private final Reader reader;
+        private final Reader reader;
         private final Encoder encoder;
         private int[] claim = new int[CLAIM * 16];
         /** The EXPRESSIONS of the COMMAND, and how many there are. */
