@@ -3291,6 +3291,7 @@ public final class ScriptSolver {
         private static final int LIMIT = 3 << 19;
         private static final int WORST_RANK = 63;
         private static final int FIRST_LEARNED = 2000;
+        private static final int MORE_LEARNED = 250;
 
         int[] row = new int[8192];
         int top;
@@ -3374,7 +3375,7 @@ public final class ScriptSolver {
 
         /** Leaves out the worse half of what was learned, and all that is settled at level 0, where this is called. */
         void reduce(int[] value, int literals) {
-            learnedLimit += learnedLimit / 8;
+            learnedLimit += MORE_LEARNED;
             Arrays.fill(ranks, 0);
             for (int ref = 0; ref < top; ref += HEAD + row[ref]) {
                 ranks[Math.min(WORST_RANK, row[ref + 3])]++;
@@ -3503,7 +3504,7 @@ public final class ScriptSolver {
         static final int GIVEN_UP = 2;
         private static final int NONE = -1;
         private static final int FAILED = -2;
-        private static final int CONFLICT_LIMIT = 1000000;
+        private static final int CONFLICT_LIMIT = 2000000;
         private static final int STEP_LIMIT = 1000000000;
         private static final int RESTART = 10;
 
@@ -3531,6 +3532,8 @@ public final class ScriptSolver {
         private int[] assumed = new int[64];
         private int held;
         private boolean isDead;
+        /** Those of the present COMMAND; beyond the limit its searches are given up. */
+        private int conflicts;
 
         Sat() {
             grow(1);
@@ -3582,6 +3585,10 @@ public final class ScriptSolver {
             reason[x >> 1] = why;
             trail[trailTop] = x;
             trailTop++;
+        }
+
+        void newCommand() {
+            conflicts = 0;
         }
 
         /** Back to level 0, where clauses can be added. */
@@ -3673,6 +3680,7 @@ public final class ScriptSolver {
         private int propagate() {
             int[] row = clauses.row;
             int[] watch = clauses.watch;
+            int[] values = value;
             while (swept < trailTop) {
                 int p = trail[swept] ^ 1;
                 swept++;
@@ -3683,10 +3691,10 @@ public final class ScriptSolver {
                     int link = ref + 1 + side;
                     int next = row[link];
                     int other = row[ref + Clauses.HEAD + 1 - side];
-                    if (value[other] <= 0) {
+                    if (values[other] <= 0) {
                         int k = ref + Clauses.HEAD + 2;
                         int stop = ref + Clauses.HEAD + row[ref];
-                        while (k < stop && value[row[k]] < 0) {
+                        while (k < stop && values[row[k]] < 0) {
                             k++;
                         }
                         if (k < stop) {
@@ -3703,7 +3711,7 @@ public final class ScriptSolver {
                             ref = next;
                             continue;
                         }
-                        if (value[other] < 0) {
+                        if (values[other] < 0) {
                             return ref;
                         }
                         set(other, ref);
@@ -3733,8 +3741,7 @@ public final class ScriptSolver {
             held = n;
             limit = roomFor(limit, n + variables + 2);
             mark = roomFor(mark, n + variables + 2);
-            int conflicts = 0;
-            int start = 0;
+            int start = conflicts;
             for (int step = 0; step < STEP_LIMIT && conflicts < CONFLICT_LIMIT && !isDead; step++) {
                 int conflict = propagate();
                 if (conflict != NONE) {
@@ -3845,8 +3852,10 @@ public final class ScriptSolver {
             marks++;
             for (int k = 1; k < n; k++) {
                 int at = level[clause[k] >> 1];
-                if (mark[at] != marks) {
-                    mark[at] = marks;
+                // What is assumed holds together all the time, so that it counts as one level.
+                int group = at <= held ? 0 : at;
+                if (mark[group] != marks) {
+                    mark[group] = marks;
                     rank++;
                 }
                 if (at > back) {
@@ -3990,6 +3999,7 @@ public final class ScriptSolver {
         int open() {
             terms.keep();
             reader.unbind();
+            sat.newCommand();
             parts = 0;
             if (tape.kind[0] != Tape.OPEN) {
                 return NO_COMMAND;
