@@ -3282,65 +3282,83 @@ public final class ScriptSolver {
         }
     }
 
-    /** All clauses in one row with their watch lists, and the watch over those that are learned. */
+    /** All clauses in one row, lists of those that watch a literal, and the watch over those that are learned. */
     private static final class Clauses {
-        /** A clause is its size, the next clauses in its two watch lists, its rank, and its literals. */
-        static final int HEAD = 4;
+        /** A clause is its size, what it is worth, and its literals, the first two of which are watched. */
+        static final int HEAD = 2;
         private static final int NONE = -1;
         private static final int CONFLICT = -2;
-        private static final int LIMIT = 3 << 19;
-        private static final int WORST_RANK = 63;
-        private static final int FIRST_LEARNED = 2000;
-        private static final int MORE_LEARNED = 250;
+        private static final int LIMIT = 1 << 20;
+        private static final int POOL_LIMIT = 1 << 20;
+        /** What a learned clause is worth: its rank, and above it how many times it is spared; 0 if it was not learned. */
+        private static final int RANK = 63;
+        private static final int SPARED = 64;
+        private static final int BEST_RANK = 2;
+        private static final int GOOD_RANK = 6;
+        private static final int LONGEST = 63;
+        private static final int FIRST_FRESH = 1000;
+        private static final int MORE_FRESH = 300;
+        private static final int MOST_FRESH = 30000;
 
         int[] row = new int[8192];
         int top;
-        /** By literal: the first clause that watches it. */
-        int[] watch = new int[1024];
-        private int learned;
-        private int learnedLimit = FIRST_LEARNED;
+        /** The lists, each a row of pairs: a literal that makes the clause true if it is, and the clause. */
+        int[] pool = new int[4096];
+        private int poolTop;
+        /** By literal: where its list begins, how much of it is used, and how much there is. */
+        int[] first = new int[1024];
+        int[] count = new int[1024];
+        private int[] room = new int[1024];
+        /** Clauses that were learned since some were left out the last time, and how many may be. */
+        private int fresh;
+        private int freshLimit = FIRST_FRESH;
         /** The ranks of clauses that were learned of late, and of all, in parts of a million. */
         private long recent;
         private long usual;
         private int ranked;
         /** Clauses that were learned and do not follow from those that they name. */
         int faults;
-        private final int[] ranks = new int[WORST_RANK + 1];
+        private final int[] worth = new int[(RANK + 1) * (LONGEST + 1)];
         private int[] named = new int[64];
-        private int names;
+        int names;
         /** By literal: the latest check in which it was found false. */
         private int[] isFalse = new int[1024];
         private int check;
 
         void clear() {
             top = 0;
-            learned = 0;
-            learnedLimit = FIRST_LEARNED;
+            poolTop = 0;
+            fresh = 0;
+            freshLimit = FIRST_FRESH;
             recent = 0;
             usual = 0;
             ranked = 0;
         }
 
         boolean isCrowded() {
-            return learned > learnedLimit;
+            return fresh >= freshLimit || poolTop > POOL_LIMIT;
         }
 
         /** What is learned of late is worse than usual, so that the search had better begin anew. */
         boolean isStuck() {
-            return 100 * recent > 115 * usual;
+            return 100 * recent > 110 * usual;
         }
 
         private void noteRank(int rank) {
-            learned++;
+            fresh++;
             ranked = Math.min(ranked + 1, 4096);
             recent += (1000000L * rank - recent) / 32;
             usual += (1000000L * rank - usual) / ranked;
         }
 
         void grow(int from, int literals) {
-            watch = roomFor(watch, literals);
+            first = roomFor(first, literals);
+            count = roomFor(count, literals);
+            room = roomFor(room, literals);
             isFalse = roomFor(isFalse, literals);
-            Arrays.fill(watch, from, literals, NONE);
+            Arrays.fill(first, from, literals, 0);
+            Arrays.fill(count, from, literals, 0);
+            Arrays.fill(room, from, literals, 0);
         }
 
         /** A clause of two literals or more, rank 0 if it was not learned; NONE if there is no room. */
@@ -3354,68 +3372,116 @@ public final class ScriptSolver {
             }
             int ref = top;
             row[ref] = n;
-            row[ref + 3] = rank;
+            row[ref + 1] = 0;
             System.arraycopy(literals, 0, row, ref + HEAD, n);
             top = stop;
             if (rank > 0) {
+                row[ref + 1] = Math.min(RANK, rank) + SPARED;
                 noteRank(rank);
             }
-            link(ref);
+            watch(row[ref + HEAD], row[ref + HEAD + 1], ref);
+            watch(row[ref + HEAD + 1], row[ref + HEAD], ref);
             return ref;
         }
 
-        private void link(int ref) {
-            int a = row[ref + HEAD];
-            int b = row[ref + HEAD + 1];
-            row[ref + 1] = watch[a];
-            watch[a] = ref;
-            row[ref + 2] = watch[b];
-            watch[b] = ref;
+        /** The clause comes to the list of the literal x. */
+        void watch(int x, int other, int ref) {
+            if (count[x] + 2 > room[x]) {
+                int more = Math.max(8, 2 * room[x]);
+                pool = roomFor(pool, poolTop + more);
+                System.arraycopy(pool, first[x], pool, poolTop, count[x]);
+                first[x] = poolTop;
+                room[x] = more;
+                poolTop += more;
+            }
+            int at = first[x] + count[x];
+            pool[at] = other;
+            pool[at + 1] = ref;
+            count[x] += 2;
         }
 
-        /** Leaves out the worse half of what was learned, and all that is settled at level 0, where this is called. */
+        boolean isLearned(int ref) {
+            return row[ref + 1] > 0;
+        }
+
+        boolean isRanked(int ref) {
+            return (row[ref + 1] & RANK) > BEST_RANK;
+        }
+
+        /** A learned clause has been of use, and its rank is this one now. */
+        void praise(int ref, int rank) {
+            int now = Math.min(rank, row[ref + 1] & RANK);
+            row[ref + 1] = now + (now <= GOOD_RANK ? 2 * SPARED : SPARED);
+        }
+
+        private int worthOf(int ref) {
+            return (row[ref + 1] & RANK) * (LONGEST + 1) + Math.min(LONGEST, row[ref]);
+        }
+
+        /** A learned clause that may be left out: none of the best, and of no use of late. */
+        private boolean isSpare(int ref) {
+            return row[ref + 1] > BEST_RANK && row[ref + 1] < SPARED;
+        }
+
+        /** Leaves out most of what was learned and is of no use, and all that is settled at level 0, where this is called. */
         void reduce(int[] value, int literals) {
-            learnedLimit += MORE_LEARNED;
-            Arrays.fill(ranks, 0);
+            freshLimit = Math.min(freshLimit + MORE_FRESH, MOST_FRESH);
+            fresh = 0;
+            Arrays.fill(worth, 0);
+            int spare = 0;
             for (int ref = 0; ref < top; ref += HEAD + row[ref]) {
-                ranks[Math.min(WORST_RANK, row[ref + 3])]++;
+                if (isSpare(ref)) {
+                    worth[worthOf(ref)]++;
+                    spare++;
+                }
             }
-            int worst = WORST_RANK;
-            int more = learned / 2;
-            while (worst > 2 && ranks[worst] < more) {
-                more -= ranks[worst];
+            int worst = worth.length - 1;
+            int more = spare - spare / 4;
+            while (worst > 0 && worth[worst] <= more) {
+                more -= worth[worst];
                 worst--;
-            }
-            if (worst <= 2) {
-                more = 0;
             }
             int to = 0;
             int size;
             for (int ref = 0; ref < top; ref += HEAD + size) {
                 size = row[ref];
-                int rank = Math.min(WORST_RANK, row[ref + 3]);
-                boolean isOut = rank > worst && rank > 2;
-                if (rank == worst && more > 0) {
-                    more--;
-                    isOut = true;
+                boolean isOut = isSpare(ref) && worthOf(ref) > worst;
+                if (row[ref + 1] >= SPARED) {
+                    row[ref + 1] -= SPARED;
                 }
-                learned -= isOut ? 1 : 0;
                 to = isOut ? to : move(ref, to, value);
             }
             top = to;
-            Arrays.fill(watch, 0, literals, NONE);
+            linkAll(literals);
+        }
+
+        /** Makes all lists anew. */
+        private void linkAll(int literals) {
+            Arrays.fill(count, 0, literals, 0);
             for (int ref = 0; ref < top; ref += HEAD + row[ref]) {
-                link(ref);
+                count[row[ref + HEAD]] += 2;
+                count[row[ref + HEAD + 1]] += 2;
+            }
+            poolTop = 0;
+            for (int x = 0; x < literals; x++) {
+                first[x] = poolTop;
+                room[x] = count[x] + 4;
+                poolTop += room[x];
+                count[x] = 0;
+            }
+            pool = roomFor(pool, poolTop);
+            for (int ref = 0; ref < top; ref += HEAD + row[ref]) {
+                watch(row[ref + HEAD], row[ref + HEAD + 1], ref);
+                watch(row[ref + HEAD + 1], row[ref + HEAD], ref);
             }
         }
 
         /** Writes a clause anew further down, without literals that are false; answers where the next one goes. */
         private int move(int ref, int to, int[] value) {
             int stop = ref + HEAD + row[ref];
-            int rank = row[ref + 3];
+            int worth = row[ref + 1];
             for (int k = ref + HEAD; k < stop; k++) {
                 if (value[row[k]] > 0) {
-                    learned -= rank > 0 ? 1 : 0;
                     return to;
                 }
             }
@@ -3427,7 +3493,7 @@ public final class ScriptSolver {
                 }
             }
             row[to] = next - to - HEAD;
-            row[to + 3] = rank;
+            row[to + 1] = worth;
             return row[to] < 2 ? to : next;
         }
 
@@ -3484,7 +3550,7 @@ public final class ScriptSolver {
         /** All clauses that were not learned are true in the model. */
         boolean areTrue(int[] model) {
             for (int ref = 0; ref < top; ref += HEAD + row[ref]) {
-                boolean isTrue = row[ref + 3] > 0;
+                boolean isTrue = row[ref + 1] > 0;
                 for (int k = 0; !isTrue && k < row[ref]; k++) {
                     int x = row[ref + HEAD + k];
                     isTrue = (model[x >> 1] ^ x & 1) == 1;
@@ -3499,13 +3565,9 @@ public final class ScriptSolver {
 
     /** Finds values of variables that make all clauses true, by learning a clause from each conflict. */
     private static final class Sat {
-        static final int UNSAT = 0;
-        static final int SAT = 1;
-        static final int GIVEN_UP = 2;
         private static final int NONE = -1;
         private static final int FAILED = -2;
-        private static final int CONFLICT_LIMIT = 2000000;
-        private static final int STEP_LIMIT = 1000000000;
+        private static final long STEP_LIMIT = 1L << 60;
         private static final int RESTART = 10;
 
         final Clauses clauses = new Clauses();
@@ -3532,7 +3594,9 @@ public final class ScriptSolver {
         private int[] assumed = new int[64];
         private int held;
         private boolean isDead;
-        /** Those of the present COMMAND; beyond the limit its searches are given up. */
+        /** What was passed on the way back from literals that are left out. */
+        private int[] trace = new int[512];
+        private int traced;
         private int conflicts;
 
         Sat() {
@@ -3564,6 +3628,7 @@ public final class ScriptSolver {
             phase = roomFor(phase, n);
             seen = roomFor(seen, n);
             clause = roomFor(clause, n);
+            trace = roomFor(trace, n);
             model = roomFor(model, n);
             clauses.grow(2 * variables, 2 * n);
             Arrays.fill(value, 2 * variables, 2 * n, 0);
@@ -3585,10 +3650,6 @@ public final class ScriptSolver {
             reason[x >> 1] = why;
             trail[trailTop] = x;
             trailTop++;
-        }
-
-        void newCommand() {
-            conflicts = 0;
         }
 
         /** Back to level 0, where clauses can be added. */
@@ -3678,49 +3739,61 @@ public final class ScriptSolver {
 
         /** The clause that has become false, or NONE. */
         private int propagate() {
-            int[] row = clauses.row;
-            int[] watch = clauses.watch;
-            int[] values = value;
-            while (swept < trailTop) {
-                int p = trail[swept] ^ 1;
+            int conflict = NONE;
+            while (swept < trailTop && conflict == NONE) {
+                conflict = sweep(trail[swept] ^ 1);
                 swept++;
-                int before = NONE;
-                int ref = watch[p];
-                while (ref != NONE) {
-                    int side = row[ref + Clauses.HEAD] == p ? 0 : 1;
-                    int link = ref + 1 + side;
-                    int next = row[link];
-                    int other = row[ref + Clauses.HEAD + 1 - side];
-                    if (values[other] <= 0) {
-                        int k = ref + Clauses.HEAD + 2;
-                        int stop = ref + Clauses.HEAD + row[ref];
-                        while (k < stop && values[row[k]] < 0) {
-                            k++;
-                        }
-                        if (k < stop) {
-                            int x = row[k];
-                            row[k] = p;
-                            row[ref + Clauses.HEAD + side] = x;
-                            row[link] = watch[x];
-                            watch[x] = ref;
-                            if (before == NONE) {
-                                watch[p] = next;
-                            } else {
-                                row[before] = next;
-                            }
-                            ref = next;
-                            continue;
-                        }
-                        if (values[other] < 0) {
-                            return ref;
-                        }
+            }
+            return conflict;
+        }
+
+        /** Goes through the clauses that watch a literal which is false now. */
+        private int sweep(int p) {
+            int[] row = clauses.row;
+            int[] pool = clauses.pool;
+            int[] values = value;
+            int from = clauses.first[p];
+            int stop = from + clauses.count[p];
+            int to = from;
+            int conflict = NONE;
+            for (int k = from; k < stop; k += 2) {
+                int hint = pool[k];
+                int ref = pool[k + 1];
+                pool[to] = hint;
+                pool[to + 1] = ref;
+                to += 2;
+                if (conflict != NONE || values[hint] > 0) {
+                    continue;
+                }
+                int at = ref + Clauses.HEAD;
+                int other = row[at] ^ row[at + 1] ^ p;
+                int end = at + row[ref];
+                int m = at + 2;
+                if (values[other] > 0) {
+                    m = end;
+                }
+                while (m < end && values[row[m]] < 0) {
+                    m++;
+                }
+                if (m < end) {
+                    int x = row[m];
+                    row[at] = other;
+                    row[at + 1] = x;
+                    row[m] = p;
+                    to -= 2;
+                    clauses.watch(x, other, ref);
+                    pool = clauses.pool;
+                } else if (values[other] < 0) {
+                    conflict = ref;
+                } else {
+                    pool[to - 2] = other;
+                    if (values[other] == 0) {
                         set(other, ref);
                     }
-                    before = link;
-                    ref = next;
                 }
             }
-            return NONE;
+            clauses.count[p] = to - from;
+            return conflict;
         }
 
         /** The literal at place k is to be true in the next search. */
@@ -3734,47 +3807,43 @@ public final class ScriptSolver {
         }
 
         /** Looks for a model in which the first n literals that were assumed are true. */
-        int solve(int n) {
+        boolean solve(int n) {
             if (n < held) {
                 backTo(n);
             }
             held = n;
             limit = roomFor(limit, n + variables + 2);
             mark = roomFor(mark, n + variables + 2);
-            int start = conflicts;
-            for (int step = 0; step < STEP_LIMIT && conflicts < CONFLICT_LIMIT && !isDead; step++) {
+            int since = 0;
+            for (long step = 0; step < STEP_LIMIT && !isDead; step++) {
                 int conflict = propagate();
                 if (conflict != NONE) {
                     conflicts++;
+                    since++;
                     if (levels == 0) {
                         isDead = true;
                     } else {
                         learn(conflict);
                     }
-                } else if (conflicts - start >= RESTART && clauses.isStuck()) {
-                    start = conflicts;
-                    restart(n);
+                } else if (since >= RESTART && clauses.isStuck()) {
+                    since = 0;
+                    backTo(n);
+                } else if (clauses.isCrowded()) {
+                    backTo(0);
+                    clauses.reduce(value, 2 * variables);
                 } else {
                     int x = nextLiteral(n);
                     if (x == NONE) {
                         keepModel();
-                        return SAT;
+                        return true;
                     }
                     if (x == FAILED) {
-                        return UNSAT;
+                        return false;
                     }
                 }
             }
-            coreSize = isDead ? 0 : coreSize;
-            return isDead ? UNSAT : GIVEN_UP;
-        }
-
-        private void restart(int n) {
-            backTo(n);
-            if (clauses.isCrowded()) {
-                backTo(0);
-                clauses.reduce(value, 2 * variables);
-            }
+            coreSize = 0;
+            return false;
         }
 
         private void keepModel() {
@@ -3847,17 +3916,10 @@ public final class ScriptSolver {
         private void learn(int conflict) {
             int n = shorten(analyse(conflict));
             clauses.look(clause, n, value, level);
+            int rank = rankOf(clause, 0, n);
             int back = 0;
-            int rank = 1;
-            marks++;
             for (int k = 1; k < n; k++) {
                 int at = level[clause[k] >> 1];
-                // What is assumed holds together all the time, so that it counts as one level.
-                int group = at <= held ? 0 : at;
-                if (mark[group] != marks) {
-                    mark[group] = marks;
-                    rank++;
-                }
                 if (at > back) {
                     back = at;
                     int x = clause[k];
@@ -3876,6 +3938,21 @@ public final class ScriptSolver {
             }
         }
 
+        /** How many levels the literals of a clause are of; what is assumed holds together, so that it counts as one. */
+        private int rankOf(int[] row, int from, int to) {
+            int rank = 0;
+            marks++;
+            for (int k = from; k < to; k++) {
+                int at = level[row[k] >> 1];
+                int group = at <= held ? 0 : at;
+                if (mark[group] != marks) {
+                    mark[group] = marks;
+                    rank++;
+                }
+            }
+            return rank;
+        }
+
         /** The first clause, back from the conflict, with one literal of the present level; answers its size. */
         private int analyse(int conflict) {
             clauses.begin();
@@ -3885,8 +3962,12 @@ public final class ScriptSolver {
             for (int k = trailTop - 1; k >= 0; k--) {
                 if (ref != NONE) {
                     clauses.name(ref);
-                    int stop = ref + Clauses.HEAD + clauses.row[ref];
-                    for (int m = ref + Clauses.HEAD; m < stop; m++) {
+                    int from = ref + Clauses.HEAD;
+                    int stop = from + clauses.row[ref];
+                    if (clauses.isRanked(ref)) {
+                        clauses.praise(ref, rankOf(clauses.row, from, stop));
+                    }
+                    for (int m = from; m < stop; m++) {
                         int x = clauses.row[m];
                         int v = x >> 1;
                         if (value[x] < 0 && seen[v] == 0 && level[v] > 0) {
@@ -3918,11 +3999,15 @@ public final class ScriptSolver {
 
         /** Leaves out literals that follow from the others; answers how many stay. */
         private int shorten(int n) {
+            marks++;
+            for (int k = 1; k < n; k++) {
+                mark[level[clause[k] >> 1]] = marks;
+            }
             int stop = n;
+            traced = 0;
             for (int k = 1; k < stop; k++) {
                 int x = clause[k];
                 if (isImplied(x)) {
-                    clauses.name(reason[x >> 1]);
                     stop--;
                     clause[k] = clause[stop];
                     clause[stop] = x;
@@ -3932,22 +4017,47 @@ public final class ScriptSolver {
             for (int k = 1; k < n; k++) {
                 seen[clause[k] >> 1] = 0;
             }
+            for (int k = 0; k < traced; k++) {
+                seen[trace[k]] = 0;
+            }
             return stop;
         }
 
+        /** Goes back from a literal through all reasons, up to others of the clause; what is passed is named. */
         private boolean isImplied(int x) {
-            int ref = reason[x >> 1];
-            if (ref == NONE) {
+            if (reason[x >> 1] == NONE) {
                 return false;
             }
-            int stop = ref + Clauses.HEAD + clauses.row[ref];
-            for (int k = ref + Clauses.HEAD; k < stop; k++) {
-                int y = clauses.row[k];
-                if (y != (x ^ 1) && seen[y >> 1] == 0 && level[y >> 1] > 0) {
-                    return false;
+            int kept = clauses.names;
+            int start = traced;
+            int v = x >> 1;
+            for (int next = start; next <= traced; next++) {
+                int ref = reason[v];
+                clauses.name(ref);
+                int stop = ref + Clauses.HEAD + clauses.row[ref];
+                for (int k = ref + Clauses.HEAD; k < stop; k++) {
+                    int u = clauses.row[k] >> 1;
+                    if (u != v && seen[u] == 0 && level[u] > 0) {
+                        if (reason[u] == NONE || mark[level[u]] != marks) {
+                            forget(start);
+                            clauses.names = kept;
+                            return false;
+                        }
+                        seen[u] = 1;
+                        trace[traced] = u;
+                        traced++;
+                    }
                 }
+                v = next < traced ? trace[next] : v;
             }
             return true;
+        }
+
+        private void forget(int start) {
+            for (int k = start; k < traced; k++) {
+                seen[trace[k]] = 0;
+            }
+            traced = start;
         }
     }
 
@@ -3999,7 +4109,6 @@ public final class ScriptSolver {
         int open() {
             terms.keep();
             reader.unbind();
-            sat.newCommand();
             parts = 0;
             if (tape.kind[0] != Tape.OPEN) {
                 return NO_COMMAND;
@@ -4330,19 +4439,14 @@ public final class ScriptSolver {
             return DONE;
         }
 
-        private void answer(int result) {
-            if (result == Sat.GIVEN_UP || encoder.isBroken()) {
-                givenUp++;
-                mode = NO_MODE;
-                tape.printLine("unknown");
-                return;
-            }
-            if (result == Sat.SAT && !sat.isModel(assumed)) {
+        private void answer(boolean isSat) {
+            givenUp += encoder.isBroken() ? 1 : 0;
+            if (isSat && !sat.isModel(assumed)) {
                 falseModels++;
             }
-            mode = result == Sat.SAT ? SAT_MODE : UNSAT_MODE;
+            mode = isSat ? SAT_MODE : UNSAT_MODE;
             model++;
-            tape.printLine(result == Sat.SAT ? "sat" : "unsat");
+            tape.printLine(isSat ? "sat" : "unsat");
         }
 
         /** The search is to assume all that is asserted but for one, and what the check assumed. */
@@ -4396,10 +4500,7 @@ public final class ScriptSolver {
         /** The constants, then the TERMS that are asked, get the least values that they can have. */
         void fixModel() {
             pinned = roomFor(pinned, sat.variables);
-            if (sat.solve(assumed) != Sat.SAT || encoder.isBroken()) {
-                givenUp++;
-                return;
-            }
+            sat.solve(assumed);
             for (int name = 0; name < names.count; name++) {
                 boolean isDeclared = names.kind[name] == Names.DECLARED && names.arity[name] == 0;
                 if (isDeclared && names.settled[name] != model && !isOpen(names.sort[name])) {
@@ -4443,7 +4544,7 @@ public final class ScriptSolver {
                 }
                 if (sat.isTrue(literal)) {
                     sat.assume(assumed, literal ^ 1);
-                    givenUp += sat.solve(assumed + 1) == Sat.GIVEN_UP ? 1 : 0;
+                    sat.solve(assumed + 1);
                 }
                 sat.assume(assumed, sat.isTrue(literal) ? literal : literal ^ 1);
                 assumed++;
@@ -4542,9 +4643,7 @@ public final class ScriptSolver {
         /** What is left of the assertions, without one of them, is still unsat. */
         private boolean isUnsatWithout(int k) {
             assumeAll(k);
-            int result = sat.solve(assumed);
-            givenUp += result == Sat.GIVEN_UP ? 1 : 0;
-            return result == Sat.UNSAT;
+            return !sat.solve(assumed);
         }
 
         private void printName(int name, boolean isBarred) {
