@@ -1761,10 +1761,19 @@ public final class ScriptSolver {
         private final int[] left = new int[6];
         private final int[] right = new int[6];
         private final int[] result = new int[6];
+        /** Of each open SORT: how many TERMS have words, and the word of the highest element that one of them has. */
+        private final int[] openSort = new int[Terms.OPEN_LIMIT];
+        private final int[] openCount = new int[Terms.OPEN_LIMIT];
+        private final int[] openHigh = new int[Terms.OPEN_LIMIT];
+        private int opens;
 
         Lower(Terms terms, Words words) {
             this.terms = terms;
             this.words = words;
+        }
+
+        void clear() {
+            opens = 0;
         }
 
         private int wordAt(int t, int k) {
@@ -1821,12 +1830,7 @@ public final class ScriptSolver {
         int symbolWord(int t) {
             int sort = terms.sort[t];
             int w = widthOf(sort);
-            int result;
-            if (isOpen(sort)) {
-                result = words.wide(words.free(openBits(t)), 7);
-            } else {
-                result = words.free(w);
-            }
+            int result = isOpen(sort) ? element(sort) : words.free(w);
             if (sort == MODE_SORT) {
                 words.addFact(words.not(words.and(words.bit(result, 2), words.or(words.bit(result, 1), words.bit(result, 0)))));
             }
@@ -1841,19 +1845,29 @@ public final class ScriptSolver {
             return result;
         }
 
-        /** Elements have no order, so the n-th TERM of an open SORT needs none but the first n. */
-        private int openBits(int t) {
-            int before = 0;
-            for (int k = 0; k < terms.count; k++) {
-                if (terms.op[k] == FUNCTION && terms.sort[k] == terms.sort[t] && terms.word[k] >= 0) {
-                    before++;
-                }
+        /** Elements have no order: each is one that a TERM before it has, or the next that none has. */
+        private int element(int sort) {
+            int k = 0;
+            while (k < opens && openSort[k] != sort) {
+                k++;
             }
-            int bits = 1;
-            while (bits < 7 && before >> bits != 0) {
-                bits++;
+            if (k >= Terms.OPEN_LIMIT) {
+                return words.free(7);
             }
-            return bits;
+            if (k == opens) {
+                opens++;
+                openSort[k] = sort;
+                openCount[k] = 1;
+                openHigh[k] = words.number(7, 0);
+                return openHigh[k];
+            }
+            int bits = 32 - Integer.numberOfLeadingZeros(openCount[k]);
+            int high = openHigh[k];
+            int result = words.wide(words.free(Math.min(7, bits)), 7);
+            words.addFact(words.not(words.less(words.plus(high, words.number(7, 1)), result)));
+            openHigh[k] = words.ite(words.less(high, result), result, high);
+            openCount[k]++;
+            return result;
         }
 
         /** With all ones in its exponent a number has no ones behind, or is the only NaN. */
@@ -2721,6 +2735,7 @@ public final class ScriptSolver {
 
         void clear() {
             words.clear();
+            lower.clear();
             net.clear();
             top = 0;
             blasted = 0;
@@ -3289,7 +3304,8 @@ public final class ScriptSolver {
         private static final int NONE = -1;
         private static final int CONFLICT = -2;
         private static final int LIMIT = 1 << 20;
-        private static final int POOL_LIMIT = 1 << 20;
+        private static final int POOL_LIMIT = 1 << 16;
+        private static final int MOST_UNUSED = 1 << 18;
         /** What a learned clause is worth: its rank, and above it how many times it is spared; 0 if it was not learned. */
         private static final int RANK = 63;
         private static final int SPARED = 64;
@@ -3305,6 +3321,7 @@ public final class ScriptSolver {
         /** The lists, each a row of pairs: a literal that makes the clause true if it is, and the clause. */
         int[] pool = new int[4096];
         private int poolTop;
+        private int poolLimit = POOL_LIMIT;
         /** By literal: where its list begins, how much of it is used, and how much there is. */
         int[] first = new int[1024];
         int[] count = new int[1024];
@@ -3328,6 +3345,7 @@ public final class ScriptSolver {
         void clear() {
             top = 0;
             poolTop = 0;
+            poolLimit = POOL_LIMIT;
             fresh = 0;
             freshLimit = FIRST_FRESH;
             recent = 0;
@@ -3336,7 +3354,12 @@ public final class ScriptSolver {
         }
 
         boolean isCrowded() {
-            return fresh >= freshLimit || poolTop > POOL_LIMIT;
+            return fresh >= freshLimit;
+        }
+
+        /** Lists that have moved have left much room unused. */
+        boolean isScattered() {
+            return poolTop > poolLimit;
         }
 
         /** What is learned of late is worse than usual, so that the search had better begin anew. */
@@ -3388,7 +3411,9 @@ public final class ScriptSolver {
         void watch(int x, int other, int ref) {
             if (count[x] + 2 > room[x]) {
                 int more = Math.max(8, 2 * room[x]);
-                pool = roomFor(pool, poolTop + more);
+                if (poolTop + more > pool.length) {
+                    pool = Arrays.copyOf(pool, Math.max(poolTop + more, 2 * pool.length));
+                }
                 System.arraycopy(pool, first[x], pool, poolTop, count[x]);
                 first[x] = poolTop;
                 room[x] = more;
@@ -3455,8 +3480,8 @@ public final class ScriptSolver {
             linkAll(literals);
         }
 
-        /** Makes all lists anew. */
-        private void linkAll(int literals) {
+        /** Makes all lists anew, without the room that is unused. */
+        void linkAll(int literals) {
             Arrays.fill(count, 0, literals, 0);
             for (int ref = 0; ref < top; ref += HEAD + row[ref]) {
                 count[row[ref + HEAD]] += 2;
@@ -3470,9 +3495,15 @@ public final class ScriptSolver {
                 count[x] = 0;
             }
             pool = roomFor(pool, poolTop);
+            poolLimit = poolTop + Math.max(POOL_LIMIT, Math.min(2 * poolTop, MOST_UNUSED));
             for (int ref = 0; ref < top; ref += HEAD + row[ref]) {
-                watch(row[ref + HEAD], row[ref + HEAD + 1], ref);
-                watch(row[ref + HEAD + 1], row[ref + HEAD], ref);
+                for (int side = 0; side < 2; side++) {
+                    int x = row[ref + HEAD + side];
+                    int at = first[x] + count[x];
+                    pool[at] = row[ref + HEAD + 1 - side];
+                    pool[at + 1] = ref;
+                    count[x] += 2;
+                }
             }
         }
 
@@ -3503,7 +3534,9 @@ public final class ScriptSolver {
         }
 
         void name(int ref) {
-            named = roomFor(named, names + 1);
+            if (names >= named.length) {
+                named = Arrays.copyOf(named, 2 * names);
+            }
             named[names] = ref;
             names++;
         }
@@ -3831,6 +3864,8 @@ public final class ScriptSolver {
                 } else if (clauses.isCrowded()) {
                     backTo(0);
                     clauses.reduce(value, 2 * variables);
+                } else if (clauses.isScattered()) {
+                    clauses.linkAll(2 * variables);
                 } else {
                     int x = nextLiteral(n);
                     if (x == NONE) {
