@@ -152,6 +152,9 @@ public final class ValueEdgesTest {
         s.value("(fp.roundToIntegral RTP " + BIG + ")", BIG);
         Script t = ready("fp.roundToIntegral: where a whole number can be beyond the greatest");
         modes(t, "(fp.roundToIntegral M (fp #b0 #b01 #b1))", "(fp #b0 #b10 #b0)", "(fp #b0 #b10 #b0)", "(fp #b0 #b10 #b0)", "(fp #b0 #b01 #b0)", "(fp #b0 #b01 #b0)");
+        // 3.75 is the greatest here, and 4 is beyond it.
+        modes(t, "(fp.roundToIntegral M (fp #b0 #b10 #b111))", "(fp #b0 #b11 #b000)", "(fp #b0 #b11 #b000)", "(fp #b0 #b11 #b000)", "(fp #b0 #b10 #b100)", "(fp #b0 #b10 #b100)");
+        modes(t, "(fp.roundToIntegral M (fp #b1 #b10 #b111))", "(fp #b1 #b11 #b000)", "(fp #b1 #b11 #b000)", "(fp #b1 #b10 #b100)", "(fp #b1 #b11 #b000)", "(fp #b1 #b10 #b100)");
         t.value("(fp.roundToIntegral RTP (fp #b0 #b10 #b1))", "(fp #b0 #b10 #b1)").value("(fp.roundToIntegral RTP (fp #b0 #b00 #b1))", "(fp #b0 #b01 #b0)").value("(fp.roundToIntegral RNE (fp #b0 #b00 #b1))", "(fp #b0 #b00 #b0)");
     }
 
