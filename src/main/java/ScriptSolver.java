@@ -1588,6 +1588,8 @@ public final class ScriptSolver {
         /** The highest bits of a word, with a lowest one that tells whether ones were lost. */
         static final int TOP = 21;
         private static final int HEADS = 4096;
+        private static final int ITEMS = 256;
+        private static final int DEGREE = 8;
 
         int count;
         int[] op = new int[512];
@@ -1603,6 +1605,12 @@ public final class ScriptSolver {
         private int[] next = new int[512];
         private final int[] head = new int[HEADS];
         private int frees;
+        /** Items of a sum: each a number of times the product of some words, modulo a power of two. */
+        private final long[] times = new long[ITEMS];
+        private final int[] factor = new int[DEGREE * ITEMS];
+        private final int[] size = new int[ITEMS];
+        private int items;
+        private int modulus;
 
         Words() {
             Arrays.fill(head, -1);
@@ -1739,6 +1747,170 @@ public final class ScriptSolver {
 
         int product(int x, int y) {
             return node(PRODUCT, width[x], Math.min(x, y), Math.max(x, y), 0);
+        }
+
+        /** x and y are sums or products that come to the same whatever their parts are, as laws of numbers have it. */
+        boolean isIdentity(int x, int y) {
+            boolean isNumber = op[x] == SUM || op[x] == PRODUCT || op[y] == SUM || op[y] == PRODUCT;
+            if (!isNumber || width[x] > 64) {
+                return false;
+            }
+            makeRoom(ITEMS);
+            modulus = width[x];
+            items = 2;
+            size[0] = 1;
+            size[1] = 1;
+            factor[0] = x;
+            factor[DEGREE] = y;
+            times[0] = 1;
+            times[1] = -1;
+            int at = 0;
+            for (int step = 0; step < 16 * ITEMS && at < items; step++) {
+                int place = findOpen(at);
+                if (place < 0) {
+                    tidy(at);
+                    at++;
+                } else if (!open(at, place)) {
+                    return false;
+                }
+            }
+            return at == items && isNothing();
+        }
+
+        private boolean isZeroTimes(long n) {
+            return n << 64 - modulus == 0;
+        }
+
+        /** Which factor of an item can be told by others, -1 if none. */
+        private int findOpen(int item) {
+            if (isZeroTimes(times[item])) {
+                size[item] = 0;
+            }
+            for (int k = 0; k < size[item]; k++) {
+                int f = factor[DEGREE * item + k];
+                int o = op[f];
+                boolean isBit = width[f] == 1 && (o >= NOT && o <= ITE);
+                boolean isWhole = width[f] == modulus && (o == NOT || o == ITE || o == SUM || o == PRODUCT);
+                if (o == NUMBER || isBit || isWhole || isRest(f)) {
+                    return k;
+                }
+            }
+            return -1;
+        }
+
+        /** What a division leaves. */
+        private boolean isRest(int f) {
+            return op[f] == PART && op[a[f]] == RATIO && width[f] == modulus && width[a[f]] == 2 * modulus && b[f] == modulus;
+        }
+
+        /** Puts for a factor what it is made of: one item becomes some; false if there are too many. */
+        private boolean open(int item, int place) {
+            int f = factor[DEGREE * item + place];
+            size[item]--;
+            factor[DEGREE * item + place] = factor[DEGREE * item + size[item]];
+            if (items + 2 > ITEMS || size[item] + 2 > DEGREE) {
+                return false;
+            }
+            long n = times[item];
+            switch (op[f]) {
+                case NUMBER:
+                    times[item] = n * (a[f] & 0xffffffffL | (long) b[f] << 32);
+                    break;
+                case NOT:
+                    copy(item, -n, a[f]);
+                    times[item] = width[f] == 1 ? n : -n;
+                    break;
+                case SUM:
+                    copy(item, n, a[f]);
+                    copy(item, n, b[f]);
+                    put(item, c[f]);
+                    break;
+                case OR:
+                case XOR:
+                    copy(item, n, a[f]);
+                    copy(item, n, b[f]);
+                    times[item] = op[f] == OR ? -n : -2 * n;
+                    put(item, a[f]);
+                    put(item, b[f]);
+                    break;
+                case ITE:
+                    copy(item, n, b[f]);
+                    put(item, c[f]);
+                    copy(item, n, a[f]);
+                    times[item] = -n;
+                    put(item, b[f]);
+                    break;
+                case PART:
+                    copy(item, n, a[a[f]]);
+                    times[item] = -n;
+                    put(item, node(PART, modulus, a[f], 0, 0));
+                    put(item, b[a[f]]);
+                    break;
+                default:
+                    put(item, a[f]);
+                    put(item, b[f]);
+                    break;
+            }
+            return true;
+        }
+
+        private void put(int item, int f) {
+            factor[DEGREE * item + size[item]] = f;
+            size[item]++;
+        }
+
+        /** A new item: an old one with another number, and one more factor. */
+        private void copy(int item, long n, int f) {
+            System.arraycopy(factor, DEGREE * item, factor, DEGREE * items, size[item]);
+            factor[DEGREE * items + size[item]] = f;
+            size[items] = size[item] + 1;
+            times[items] = n;
+            items++;
+        }
+
+        /** Factors in order; a bit by itself is the bit. */
+        private void tidy(int item) {
+            int start = DEGREE * item;
+            int kept = 0;
+            for (int k = 0; k < size[item]; k++) {
+                int f = factor[start + k];
+                int m = kept;
+                while (m > 0 && factor[start + m - 1] > f) {
+                    m--;
+                }
+                if (m > 0 && factor[start + m - 1] == f && width[f] == 1) {
+                    continue;
+                }
+                System.arraycopy(factor, start + m, factor, start + m + 1, kept - m);
+                factor[start + m] = f;
+                kept++;
+            }
+            size[item] = kept;
+        }
+
+        /** All items together are 0. */
+        private boolean isNothing() {
+            for (int i = 0; i < items; i++) {
+                long sum = 0;
+                for (int k = i; k < items; k++) {
+                    if (isSameItem(i, k)) {
+                        sum += times[k];
+                        times[k] = k > i ? 0 : times[k];
+                    }
+                }
+                if (!isZeroTimes(sum)) {
+                    return false;
+                }
+            }
+            return true;
+        }
+
+        private boolean isSameItem(int i, int k) {
+            boolean isSame = size[i] == size[k];
+            for (int m = 0; isSame && m < size[i]; m++) {
+                isSame = factor[DEGREE * i + m] == factor[DEGREE * k + m];
+            }
+            return isSame;
         }
     }
 
@@ -1886,6 +2058,34 @@ public final class ScriptSolver {
                 same = words.and(same, words.equal(wordAt(t, n), wordAt(k, n)));
             }
             return words.or(words.not(same), words.equal(result, terms.word[k]));
+        }
+
+        /** Products and ratios of the same parts are the same, which a search would have to find out bit by bit. */
+        void relate(int n) {
+            int op = words.op[n];
+            if ((op == Words.EQUAL || op == Words.LESS) && words.isIdentity(words.a[n], words.b[n])) {
+                words.makeRoom(1);
+                words.addFact(op == Words.EQUAL ? n : words.not(n));
+            }
+            if (op != Words.PRODUCT && op != Words.RATIO || words.width[words.a[n]] < 6) {
+                return;
+            }
+            words.makeRoom(128);
+            int found = 0;
+            for (int k = n - 1; k >= 0 && found < 8; k--) {
+                if (words.op[k] == op && words.width[k] == words.width[n]) {
+                    found++;
+                    words.addFact(sameIf(n, k, words.a[k], words.b[k]));
+                    if (op == Words.PRODUCT) {
+                        words.addFact(sameIf(n, k, words.b[k], words.a[k]));
+                    }
+                }
+            }
+        }
+
+        private int sameIf(int n, int k, int a, int b) {
+            int same = words.and(words.equal(words.a[n], a), words.equal(words.b[n], b));
+            return words.or(words.not(same), words.equal(n, k));
         }
 
         int coreWord(int t) {
@@ -2784,6 +2984,9 @@ public final class ScriptSolver {
                         terms.word[k] = lower.exactWord(k);
                     }
                 }
+            }
+            for (int n = blasted; n < words.count; n++) {
+                lower.relate(n);
             }
             for (int n = blasted; n < words.count; n++) {
                 blast(n);
