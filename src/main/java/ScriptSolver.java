@@ -3830,10 +3830,8 @@ public final class ScriptSolver {
         private int[] assumed = new int[64];
         private int held;
         private boolean isDead;
-        /** What was passed on the way back from literals that are left out. */
+        /** The variables that were passed on the way back from literals that are left out. */
         private int[] trace = new int[512];
-        private int traced;
-        private int conflicts;
 
         Sat() {
             grow(1);
@@ -3976,7 +3974,7 @@ public final class ScriptSolver {
         /** The clause that has become false, or NONE. */
         private int propagate() {
             int conflict = NONE;
-            while (swept < trailTop && conflict == NONE) {
+            for (int k = 0; k <= variables && swept < trailTop && conflict == NONE; k++) {
                 conflict = sweep(trail[swept] ^ 1);
                 swept++;
             }
@@ -4054,7 +4052,6 @@ public final class ScriptSolver {
             for (long step = 0; step < STEP_LIMIT && !isDead; step++) {
                 int conflict = propagate();
                 if (conflict != NONE) {
-                    conflicts++;
                     since++;
                     if (levels == 0) {
                         isDead = true;
@@ -4242,10 +4239,12 @@ public final class ScriptSolver {
                 mark[level[clause[k] >> 1]] = marks;
             }
             int stop = n;
-            traced = 0;
+            int traced = 0;
             for (int k = 1; k < stop; k++) {
                 int x = clause[k];
-                if (isImplied(x)) {
+                int more = reason[x >> 1] == NONE ? NONE : traceBack(x >> 1, traced);
+                if (more != NONE) {
+                    traced = more;
                     stop--;
                     clause[k] = clause[stop];
                     clause[stop] = x;
@@ -4261,41 +4260,37 @@ public final class ScriptSolver {
             return stop;
         }
 
-        /** Goes back from a literal through all reasons, up to others of the clause; what is passed is named. */
-        private boolean isImplied(int x) {
-            if (reason[x >> 1] == NONE) {
-                return false;
-            }
+        /**
+         * Goes back from a variable through all reasons, which are named, up to others of the clause; answers how many
+         * variables the trace has then, NONE if the way ends elsewhere.
+         */
+        private int traceBack(int start, int traced) {
             int kept = clauses.names;
-            int start = traced;
-            int v = x >> 1;
-            for (int next = start; next <= traced; next++) {
+            int top = traced;
+            int v = start;
+            for (int next = traced; next <= top && next <= variables; next++) {
                 int ref = reason[v];
                 clauses.name(ref);
                 int stop = ref + Clauses.HEAD + clauses.row[ref];
                 for (int k = ref + Clauses.HEAD; k < stop; k++) {
                     int u = clauses.row[k] >> 1;
-                    if (u != v && seen[u] == 0 && level[u] > 0) {
-                        if (reason[u] == NONE || mark[level[u]] != marks) {
-                            forget(start);
-                            clauses.names = kept;
-                            return false;
-                        }
-                        seen[u] = 1;
-                        trace[traced] = u;
-                        traced++;
+                    if (u == v || seen[u] != 0 || level[u] == 0) {
+                        continue;
                     }
+                    if (reason[u] == NONE || mark[level[u]] != marks) {
+                        for (int m = traced; m < top; m++) {
+                            seen[trace[m]] = 0;
+                        }
+                        clauses.names = kept;
+                        return NONE;
+                    }
+                    seen[u] = 1;
+                    trace[top] = u;
+                    top++;
                 }
-                v = next < traced ? trace[next] : v;
+                v = next < top ? trace[next] : v;
             }
-            return true;
-        }
-
-        private void forget(int start) {
-            for (int k = start; k < traced; k++) {
-                seen[trace[k]] = 0;
-            }
-            traced = start;
+            return top;
         }
     }
 
