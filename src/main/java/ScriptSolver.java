@@ -2067,12 +2067,12 @@ public final class ScriptSolver {
                 words.makeRoom(1);
                 words.addFact(op == Words.EQUAL ? n : words.not(n));
             }
-            if (op != Words.PRODUCT && op != Words.RATIO || words.width[words.a[n]] < 6) {
+            if (op != Words.PRODUCT && op != Words.RATIO || words.width[words.a[n]] < 10) {
                 return;
             }
             words.makeRoom(128);
             int found = 0;
-            for (int k = n - 1; k >= 0 && found < 8; k--) {
+            for (int k = n - 1; k >= 0 && found < 4; k--) {
                 if (words.op[k] == op && words.width[k] == words.width[n]) {
                     found++;
                     words.addFact(sameIf(n, k, words.a[k], words.b[k]));
@@ -3506,7 +3506,7 @@ public final class ScriptSolver {
         static final int HEAD = 2;
         private static final int NONE = -1;
         private static final int CONFLICT = -2;
-        private static final int LIMIT = 1 << 20;
+        static final int LIMIT = 1 << 20;
         private static final int POOL_LIMIT = 1 << 16;
         private static final int MOST_UNUSED = 1 << 18;
         /** What a learned clause is worth: its rank, and above it how many times it is spared; 0 if it was not learned. */
@@ -3557,7 +3557,7 @@ public final class ScriptSolver {
         }
 
         boolean isCrowded() {
-            return fresh >= freshLimit;
+            return fresh >= freshLimit || fresh > 0 && top > LIMIT - LIMIT / 8;
         }
 
         /** Lists that have moved have left much room unused. */
@@ -3628,10 +3628,6 @@ public final class ScriptSolver {
             count[x] += 2;
         }
 
-        boolean isLearned(int ref) {
-            return row[ref + 1] > 0;
-        }
-
         boolean isRanked(int ref) {
             return (row[ref + 1] & RANK) > BEST_RANK;
         }
@@ -3669,11 +3665,37 @@ public final class ScriptSolver {
                 more -= worth[worst];
                 worst--;
             }
+            leaveOut(worst, false, value, literals);
+            makeRoom(LIMIT - LIMIT / 4, value, literals);
+        }
+
+        /** If more room is used than this, the worst of all that was learned is left out until half of it is free. */
+        void makeRoom(int most, int[] value, int literals) {
+            if (top <= most) {
+                return;
+            }
+            Arrays.fill(worth, 0);
+            for (int ref = 0; ref < top; ref += HEAD + row[ref]) {
+                if (row[ref + 1] > 0) {
+                    worth[worthOf(ref)] += HEAD + row[ref];
+                }
+            }
+            int worst = worth.length - 1;
+            int more = top - LIMIT / 2;
+            while (worst >= 0 && more > 0) {
+                more -= worth[worst];
+                worst--;
+            }
+            leaveOut(worst, true, value, literals);
+        }
+
+        /** Leaves out what is worse than this of what is spare, or of all that was learned. */
+        private void leaveOut(int worst, boolean isOfAll, int[] value, int literals) {
             int to = 0;
             int size;
             for (int ref = 0; ref < top; ref += HEAD + size) {
                 size = row[ref];
-                boolean isOut = isSpare(ref) && worthOf(ref) > worst;
+                boolean isOut = (isOfAll ? row[ref + 1] > 0 : isSpare(ref)) && worthOf(ref) > worst;
                 if (row[ref + 1] >= SPARED) {
                     row[ref + 1] -= SPARED;
                 }
@@ -3697,7 +3719,9 @@ public final class ScriptSolver {
                 poolTop += room[x];
                 count[x] = 0;
             }
-            pool = roomFor(pool, poolTop);
+            if (poolTop > pool.length) {
+                pool = Arrays.copyOf(pool, Math.max(poolTop, 2 * pool.length));
+            }
             poolLimit = poolTop + Math.max(POOL_LIMIT, Math.min(2 * poolTop, MOST_UNUSED));
             for (int ref = 0; ref < top; ref += HEAD + row[ref]) {
                 for (int side = 0; side < 2; side++) {
@@ -3890,6 +3914,9 @@ public final class ScriptSolver {
         void rest() {
             backTo(0);
             held = 0;
+            if (!isDead) {
+                clauses.makeRoom(Clauses.LIMIT / 2, value, 2 * variables);
+            }
         }
 
         private void backTo(int n) {
@@ -3910,6 +3937,9 @@ public final class ScriptSolver {
 
         /** A clause of the first n literals of a row, which is changed; false if there is no room. */
         boolean add(int[] row, int n) {
+            if (isDead) {
+                return true;
+            }
             int kept = 0;
             for (int k = 0; k < n; k++) {
                 int x = row[k];
@@ -4165,10 +4195,7 @@ public final class ScriptSolver {
             backTo(back);
             choice.decay();
             int ref = n == 1 ? NONE : clauses.store(clause, n, rank);
-            if (n > 1 && ref == NONE) {
-                backTo(0);
-                clauses.reduce(value, 2 * variables);
-            } else {
+            if (n == 1 || ref != NONE) {
                 set(clause[0], ref);
             }
         }
