@@ -56,6 +56,68 @@ public final class CommandEdgesTest {
         s.shows(6, 1);
     }
 
+    /** In the place of @, one of each kind: those that are not of the kind named are refused. */
+    private static void only(Script s, String error, String kinds, String form) {
+        String[] each = {"symbol", "0", ":key", "#b1", "\"string\"", "()", "(list)"};
+        String[] names = {"SYMBOL", "NUMERAL", "KEYWORD", "LITERAL", "STRING", "NONE", "LIST"};
+        for (int k = 0; k < each.length; k++) {
+            if (!kinds.contains(names[k])) {
+                s.refuses(form.replace("@", each[k]), error);
+            }
+        }
+    }
+
+    private static void kinds() {
+        Script s = new Script("What is wrong first is told: the form of the COMMAND");
+        s.does("(declare-const a Bool)(declare-const x (_ BitVec 4))").prints("(check-sat)", "sat");
+        for (String form : new String[] {"(@)", "(set-logic @)", "(declare-sort @ 0)", "(declare-const @ Bool)", "(declare-fun @ () Bool)",
+            "(define-fun @ () Bool true)", "(define-fun f ((@ Bool)) Bool true)", "(define-fun f ((y Bool) (@ Bool)) Bool true)"}) {
+            only(s, "command", form.equals("(@)") ? "" : "SYMBOL", form);
+        }
+        only(s, "command", "KEYWORD", "(set-option @ a)");
+        only(s, "command", "KEYWORD", "(set-info @ a)");
+        only(s, "command", "STRING", "(echo @)");
+        only(s, "command", "NUMERAL", "(declare-sort S @)");
+        only(s, "command", "NUMERAL", "(push @)");
+        only(s, "command", "NUMERAL", "(pop @)");
+        only(s, "command", "NONE LIST", "(declare-fun f @ Bool)");
+        only(s, "command", "NONE", "(define-fun f @ Bool true)");
+        only(s, "command", "", "(define-fun f (@) Bool true)");
+        only(s, "command", "NONE LIST", "(check-sat-assuming @)");
+        only(s, "command", "LIST", "(get-value @)");
+        only(s, "command", "", "(get-unsat-core @)");
+        only(s, "command", "", "(check-sat @)");
+        only(s, "command", "", "(reset @)");
+        only(s, "sort", "", "(declare-const c @)");
+        only(s, "sort", "", "(declare-fun f (@) Bool)");
+        only(s, "sort", "", "(declare-fun f () @)");
+        only(s, "sort", "", "(define-fun f () @ true)");
+        only(s, "sort", "", "(define-fun f ((y @)) Bool true)");
+        only(s, "sort", "", "(declare-const c (_ BitVec @))");
+        only(s, "sort", "", "(declare-const c (_ FloatingPoint @ 3))");
+        only(s, "sort", "", "(declare-const c (_ FloatingPoint 3 @))");
+        only(s, "sort", "", "(declare-const c (@ BitVec 3))");
+        only(s, "sort", "", "(declare-const c (_ @ 3))");
+        only(s, "sort", "SYMBOL LITERAL", "(assert @)");
+        only(s, "sort", "SYMBOL", "(assert (! a :named @))");
+        only(s, "sort", "", "(assert (! a @ n))");
+        only(s, "sort", "SYMBOL LITERAL", "(assert (! @ :named n))");
+        only(s, "sort", "SYMBOL", "(assert (@ a))");
+        only(s, "sort", "SYMBOL", "(assert (let ((@ a)) a))");
+        only(s, "sort", "SYMBOL LITERAL", "(assert (let ((b @)) b))");
+        only(s, "sort", "", "(assert (let @ a))");
+        only(s, "sort", "", "(assert (let (@) a))");
+        only(s, "sort", "", "(assert (= x (_ bv1 @)))");
+        only(s, "sort", "", "(assert (= x (_ @ 4)))");
+        only(s, "sort", "", "(assert (fp.isNaN (_ NaN @ 3)))");
+        only(s, "sort", "", "(assert (fp.isNaN (_ NaN 3 @)))");
+        only(s, "sort", "NUMERAL", "(assert (= #b1 ((_ extract @ 0) x)))");
+        only(s, "sort", "NUMERAL", "(assert (= #b1 ((_ extract 0 @) x)))");
+        only(s, "sort", "SYMBOL", "(assert (= #b1 ((_ @ 0) x)))");
+        only(s, "sort", "", "(assert (= #b1 ((@ extract 0 0) x)))");
+        s.shows(3, 2).shows(4, 0).shows(6, 1);
+    }
+
     private static void quiet() {
         Script s = new Script("(set-logic SYMBOL), (set-option KEYWORD EXPRESSION), (set-info KEYWORD EXPRESSION): nothing.");
         s.does("(declare-const a Bool)").prints("(check-sat)", "sat");
@@ -291,6 +353,7 @@ public final class CommandEdgesTest {
         newObject();
         commandsAreCounted();
         forms();
+        kinds();
         quiet();
         reset();
         names();

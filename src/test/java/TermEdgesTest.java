@@ -70,6 +70,7 @@ public final class TermEdgesTest {
         s.value("(let ((a #b1)) (let ((b a)) (let ((a #b0)) (concat a b))))", "#b01");
         s.value("(let ((S true)) S)", "true").value("(let ((g #b1)) g)", "#b1").value("(let ((let true) (_ false) (! true)) (and let ! (not _)))", "true");
         s.value("(let ((g #b1)) (g s a))", "#b000").value("(let ((not true)) (not not))", "false");
+        s.value("(let ((b true)) b)", "true").prints("(get-value (a a a a a a a))", "((a false) (a false) (a false) (a false) (a false) (a false) (a false))");
         wrong(s, "name", "(let ((f true)) (f a))", "(let ((b a) (c b)) c)", "(and (let ((b a)) b) b)");
         wrong(s, "sort", "1", "0", "\"a\"", ":a", "()");
     }
@@ -90,7 +91,7 @@ public final class TermEdgesTest {
         s.value("(_ bv18446744073709551621 64)", "#b" + "0".repeat(61) + "101").value("(_ bv18446744073709551621 3)", "#b101");
         s.value("(_ bv1" + "0".repeat(80) + "7 3)", "#b111").value("(_ |bv5| 3)", "#b101");
         wrong(s, "sort", "(_ bv1 0)", "(_ bv1 65)", "(_ bv1 18446744073709551617)", "(_ bv 4)", "(_ bv01 4)", "(_ bv1a 4)", "(_ bv-1 4)",
-                "(_ bv1)", "(_ bv1 4 4)", "(_ bv1 a)", "(_ bv1 #b1)", "(_ BV1 4)", "(_ b1 4)", "(_ nope 4)", "(_)", "(_ 1 4)", "(_ true 1)", "(_ bv1 (4))");
+                "(_ bv1)", "(_ bv1 4 4)", "(_ bv1 a)", "(_ bv1 #b1)", "(_ BV1 4)", "(_ b1 4)", "(_ bw1 4)", "(_ av1 4)", "(_ nope 4)", "(_)", "(_ 1 4)", "(_ true 1)", "(_ bv1 (4))");
         right(s, "(_ BitVec 64)", "(_ bv7 64)");
         right(s, "Bool", "(= (_ bv10 4) #b1010 #xa)");
     }

@@ -195,6 +195,12 @@ public final class WeightEdgesTest {
         s.refuses("(assert (= u (t (t (t u)))))", "full");
         s.does("(declare-const v S)").refuses("(assert (= v v))", "full").refuses("(check-sat-assuming ((= v s0)))", "full").does("(assert (= s0 s96 (d s5 (t u))))");
         s.does("(declare-fun f (S) Bool)(assert (f s1))(assert (not (f s2)))").prints("(check-sat)", "unsat").does("(reset)(declare-sort S 0)(declare-const v S)(assert (= v v))");
+        Script again = new Script("100 TERMS of OPEN SORTS: since the latest reset");
+        again.does("(declare-sort S 0)(declare-const s S)(assert (= s s))(reset)(declare-sort S 0)");
+        for (int k = 0; k < 100; k++) {
+            again.feed("(declare-const s" + k + " S)(assert (= s" + k + " s0))").x.run();
+        }
+        again.shows(4, 100).does("(declare-const s S)").refuses("(assert (= s0 s))", "full").prints("(check-sat)", "sat");
         Script t = new Script("100 TERMS of OPEN SORTS may all be different");
         StringBuilder all = new StringBuilder();
         t.does("(declare-sort S 0)(declare-fun f (S) S)(declare-const s S)");
