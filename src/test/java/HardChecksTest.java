@@ -91,6 +91,10 @@ public final class HardChecksTest {
         s.does("(declare-sort S 0)(declare-fun f (S) S)(declare-const s S)");
         s.does("(assert (= " + power(13) + " s))(assert (= " + power(18) + " s))");
         never(s, "(not (= (f s) s))");
+        s.does("(reset)(declare-const x (_ BitVec 9))(declare-sort S 0)(declare-const s S)(declare-const t S)(assert (bvult x (bvadd x x)))");
+        s.prints("(check-sat-assuming ((distinct s t)))(check-sat-assuming ((= s t)))", "sat", "sat");
+        s.does("(reset)(declare-sort S 0)(declare-const s S)(declare-const t S)(declare-sort T 0)(declare-const u T)(declare-const v T)");
+        s.prints("(check-sat-assuming ((distinct u v) (distinct s t)))(check-sat-assuming ((= s t)))", "sat", "sat");
         s.does("(reset)(declare-sort S 0)(declare-fun f (S) S)(declare-const s S)(assert (= " + power(12) + " s))(assert (= " + power(18) + " s))");
         never(s, "(not (= " + power(6) + " s))");
         s.prints("(check-sat-assuming ((not (= " + power(3) + " s)) (not (= " + power(2) + " s))))", "sat");
