@@ -1927,6 +1927,9 @@ public final class ScriptSolver {
         private static final int EXPONENT = 4;
         /** With the bit that is not written. */
         private static final int SIGNIFICAND = 5;
+        /** From how many bits on relations between words are stated, and to how many words before. */
+        private static final int WIDE = 10;
+        private static final int RELATED = 4;
 
         private final Terms terms;
         private final Words words;
@@ -2060,32 +2063,110 @@ public final class ScriptSolver {
             return words.or(words.not(same), words.equal(result, terms.word[k]));
         }
 
-        /** Products and ratios of the same parts are the same, which a search would have to find out bit by bit. */
+        /** States what is known of wide words beforehand, and what a search would have to find out bit by bit. */
         void relate(int n) {
             int op = words.op[n];
             if ((op == Words.EQUAL || op == Words.LESS) && words.isIdentity(words.a[n], words.b[n])) {
                 words.makeRoom(1);
                 words.addFact(op == Words.EQUAL ? n : words.not(n));
             }
-            if (op != Words.PRODUCT && op != Words.RATIO || words.width[words.a[n]] < 10) {
+            if (op != Words.PRODUCT && op != Words.RATIO || words.width[words.a[n]] < WIDE) {
                 return;
             }
-            words.makeRoom(128);
+            words.makeRoom(256);
+            if (op == Words.RATIO) {
+                boundRatio(n);
+            } else {
+                boundProduct(n, words.a[n], words.b[n]);
+                boundProduct(n, words.b[n], words.a[n]);
+            }
             int found = 0;
-            for (int k = n - 1; k >= 0 && found < 4; k--) {
+            for (int k = n - 1; k >= 0 && found < RELATED; k--) {
                 if (words.op[k] == op && words.width[k] == words.width[n]) {
                     found++;
-                    words.addFact(sameIf(n, k, words.a[k], words.b[k]));
-                    if (op == Words.PRODUCT) {
-                        words.addFact(sameIf(n, k, words.b[k], words.a[k]));
+                    if (op == Words.RATIO) {
+                        relateRatios(n, k);
+                    } else {
+                        relateProducts(n, k, words.a[k], words.b[k]);
+                        relateProducts(n, k, words.b[k], words.a[k]);
                     }
                 }
             }
         }
 
-        private int sameIf(int n, int k, int a, int b) {
-            int same = words.and(words.equal(words.a[n], a), words.equal(words.b[n], b));
-            return words.or(words.not(same), words.equal(n, k));
+        private int atMost(int x, int y) {
+            return words.not(words.less(y, x));
+        }
+
+        /** What follows if both are true. */
+        private void addRule(int x, int y, int then) {
+            words.addFact(words.or(words.not(words.and(x, y)), then));
+        }
+
+        private int quotient(int ratio) {
+            return words.part(ratio, words.width[ratio] / 2 - 1, 0);
+        }
+
+        private int rest(int ratio) {
+            return words.part(ratio, words.width[ratio] - 1, words.width[ratio] / 2);
+        }
+
+        private void boundRatio(int n) {
+            int x = words.a[n];
+            int y = words.b[n];
+            words.addFact(words.or(words.isZero(y), words.less(rest(n), y)));
+            words.addFact(words.or(words.isZero(y), atMost(quotient(n), x)));
+            words.addFact(atMost(rest(n), x));
+        }
+
+        /** A product of x and y, if x is a ratio to y, or if nothing is lost of it. */
+        private void boundProduct(int n, int x, int y) {
+            int ratio = words.op[x] == Words.PART ? words.a[x] : n;
+            boolean isQuotient = words.op[ratio] == Words.RATIO && words.width[ratio] == 2 * words.width[x];
+            if (isQuotient && words.b[x] == 0 && words.b[ratio] == y) {
+                words.addFact(atMost(n, words.a[ratio]));
+                words.addFact(words.equal(words.a[ratio], words.plus(n, rest(ratio))));
+            }
+            if (isExact(n)) {
+                words.addFact(words.or(words.isZero(y), atMost(x, n)));
+            }
+        }
+
+        private boolean isExact(int product) {
+            return usedBits(words.a[product]) + usedBits(words.b[product]) <= words.width[product];
+        }
+
+        /** How many bits of a word may be ones. */
+        private int usedBits(int x) {
+            boolean isLow = words.op[x] == Words.JOIN && words.op[words.a[x]] == Words.NUMBER;
+            boolean isZero = isLow && words.a[words.a[x]] == 0 && words.b[words.a[x]] == 0;
+            return isZero ? words.width[words.b[x]] : words.width[x];
+        }
+
+        /** Greater parts make a greater product, and the same ones the same. */
+        private void relateProducts(int n, int k, int x, int y) {
+            int a = words.a[n];
+            int b = words.b[n];
+            addRule(words.equal(a, x), words.equal(b, y), words.equal(n, k));
+            if (isExact(n) && isExact(k)) {
+                addRule(atMost(a, x), atMost(b, y), atMost(n, k));
+                addRule(atMost(x, a), atMost(y, b), atMost(k, n));
+                if (a == x || b == y) {
+                    int some = words.not(words.isZero(a == x ? a : b));
+                    addRule(words.less(a == x ? b : a, a == x ? y : x), some, words.less(n, k));
+                    addRule(words.less(a == x ? y : x, a == x ? b : a), some, words.less(k, n));
+                }
+            }
+        }
+
+        private void relateRatios(int n, int k) {
+            int a = words.a[n];
+            int b = words.b[n];
+            int x = words.a[k];
+            int y = words.b[k];
+            addRule(words.equal(a, x), words.equal(b, y), words.equal(n, k));
+            addRule(atMost(a, x), atMost(y, b), atMost(quotient(n), quotient(k)));
+            addRule(atMost(x, a), atMost(b, y), atMost(quotient(k), quotient(n)));
         }
 
         int coreWord(int t) {
