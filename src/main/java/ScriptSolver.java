@@ -1927,9 +1927,10 @@ public final class ScriptSolver {
         private static final int EXPONENT = 4;
         /** With the bit that is not written. */
         private static final int SIGNIFICAND = 5;
-        /** From how many bits on relations between words are stated, and to how many words before. */
+        /** From how many bits on relations between words are stated, to how many before each, and how many in all. */
         private static final int WIDE = 10;
-        private static final int RELATED = 4;
+        private static final int NEAR = 4;
+        private static final int RELATED = 24;
 
         private final Terms terms;
         private final Words words;
@@ -1941,6 +1942,7 @@ public final class ScriptSolver {
         private final int[] openCount = new int[Terms.OPEN_LIMIT];
         private final int[] openHigh = new int[Terms.OPEN_LIMIT];
         private int opens;
+        private int related;
 
         Lower(Terms terms, Words words) {
             this.terms = terms;
@@ -1949,6 +1951,7 @@ public final class ScriptSolver {
 
         void clear() {
             opens = 0;
+            related = 0;
         }
 
         private int wordAt(int t, int k) {
@@ -2080,10 +2083,10 @@ public final class ScriptSolver {
                 boundProduct(n, words.a[n], words.b[n]);
                 boundProduct(n, words.b[n], words.a[n]);
             }
-            int found = 0;
-            for (int k = n - 1; k >= 0 && found < RELATED; k--) {
+            int stop = Math.min(RELATED, related + NEAR);
+            for (int k = n - 1; k >= 0 && related < stop; k--) {
                 if (words.op[k] == op && words.width[k] == words.width[n]) {
-                    found++;
+                    related++;
                     if (op == Words.RATIO) {
                         relateRatios(n, k);
                     } else {

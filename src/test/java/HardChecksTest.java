@@ -34,6 +34,29 @@ public final class HardChecksTest {
                 "((x #b0001) (y #b0000) (z #b0000))");
     }
 
+    private static String wide(String term, int more) {
+        return "((_ zero_extend " + more + ") " + term + ")";
+    }
+
+    private static void orders() {
+        String less = "(bvult (bvmul " + wide("x", 14) + " " + wide("z", 14) + ") (bvmul " + wide("y", 14) + " " + wide("z", 14) + "))";
+        never(numbers(14), "(bvult x y) (distinct z (_ bv0 14)) (not " + less + ")");
+        never(numbers(12), "(bvult x y) (not (bvult (bvmul " + wide("x", 12) + " " + wide("x", 12) + ") (bvmul " + wide("y", 12) + " " + wide("y", 12) + ")))");
+        never(numbers(14), "(distinct y (_ bv0 14)) (bvult (bvmul " + wide("x", 14) + " " + wide("y", 14) + ") " + wide("x", 14) + ")");
+        never(numbers(32), "(distinct y (_ bv0 32)) (not (bvult (bvurem x y) y))");
+        never(numbers(32), "(distinct y (_ bv0 32)) (bvugt (bvudiv x y) x)");
+        never(numbers(32), "(bvugt (bvmul y (bvudiv x y)) x)");
+        never(numbers(24), "(bvule x y) (bvugt (bvudiv x z) (bvudiv y z))");
+        never(numbers(24), "(bvule x y) (bvult (bvudiv z x) (bvudiv z y))");
+        numbers(12).prints("(check-sat-assuming ((bvult x y) (bvult #x000 z) (not (bvult (bvmul x z) (bvmul y z)))))(get-value (x y z))", "sat",
+                "((x #b000000000000) (y #b000000000010) (z #b100000000000))");
+        numbers(12).prints("(check-sat-assuming ((not (bvult (bvurem x y) y)) (bvult #x004 x)))(get-value (x y))", "sat", "((x #b000000000101) (y #b000000000000))");
+        numbers(12).prints("(check-sat-assuming ((bvugt (bvudiv x y) x)))(get-value (x y))", "sat", "((x #b000000000000) (y #b000000000000))");
+        numbers(12).prints("(check-sat-assuming ((bvult (bvmul x y) x) (bvult #x001 x) (bvult #x000 y)))(get-value (x y))", "sat", "((x #b000000000010) (y #b100000000000))");
+        numbers(12).prints("(check-sat-assuming ((bvult x y) (bvult (bvurem y z) (bvurem x z))))(get-value (x y z))", "sat",
+                "((x #b000000000001) (y #b000000000010) (z #b000000000010))");
+    }
+
     private static void factors() {
         String wide = "(bvmul ((_ zero_extend 16) x) ((_ zero_extend 16) y))";
         numbers(16).prints("(check-sat-assuming ((= " + wide + " (_ bv2005491953 32)) (bvult #x0001 x) (bvult #x0001 y)))(get-value (x y))", "sat",
@@ -102,6 +125,7 @@ public final class HardChecksTest {
 
     public static void main(String[] args) {
         laws();
+        orders();
         factors();
         holes();
         floats();
