@@ -1764,9 +1764,14 @@ public final class ScriptSolver {
             factor[DEGREE] = y;
             times[0] = 1;
             times[1] = -1;
+            return openAll(false) && (items == 0 || openAll(true) && items == 0);
+        }
+
+        /** Opens all factors that can be, conditions and divisions too or not; false if there are too many. */
+        private boolean openAll(boolean isDeep) {
             int at = 0;
             for (int step = 0; step < 16 * ITEMS && at < items; step++) {
-                int place = findOpen(at);
+                int place = findOpen(at, isDeep);
                 if (place < 0) {
                     tidy(at);
                     at++;
@@ -1774,7 +1779,9 @@ public final class ScriptSolver {
                     return false;
                 }
             }
-            return at == items && isNothing();
+            boolean isDone = at == items;
+            gather();
+            return isDone;
         }
 
         private boolean isZeroTimes(long n) {
@@ -1782,16 +1789,16 @@ public final class ScriptSolver {
         }
 
         /** Which factor of an item can be told by others, -1 if none. */
-        private int findOpen(int item) {
+        private int findOpen(int item, boolean isDeep) {
             if (isZeroTimes(times[item])) {
                 size[item] = 0;
             }
             for (int k = 0; k < size[item]; k++) {
                 int f = factor[DEGREE * item + k];
                 int o = op[f];
-                boolean isBit = width[f] == 1 && (o >= NOT && o <= ITE);
-                boolean isWhole = width[f] == modulus && (o == NOT || o == ITE || o == SUM || o == PRODUCT);
-                if (o == NUMBER || isBit || isWhole || isRest(f)) {
+                boolean isWhole = width[f] == modulus && (o == NOT || o == SUM || o == PRODUCT);
+                boolean isChoice = width[f] == modulus && o == ITE || width[f] == 1 && o >= NOT && o <= ITE;
+                if (o == NUMBER || isWhole || isDeep && (isChoice || isRest(f))) {
                     return k;
                 }
             }
@@ -1888,21 +1895,25 @@ public final class ScriptSolver {
             size[item] = kept;
         }
 
-        /** All items together are 0. */
-        private boolean isNothing() {
+        /** Puts items of the same factors together; those that are nothing then are gone. */
+        private void gather() {
+            int kept = 0;
             for (int i = 0; i < items; i++) {
-                long sum = 0;
-                for (int k = i; k < items; k++) {
+                long sum = times[i];
+                for (int k = i + 1; k < items; k++) {
                     if (isSameItem(i, k)) {
                         sum += times[k];
-                        times[k] = k > i ? 0 : times[k];
+                        times[k] = 0;
                     }
                 }
                 if (!isZeroTimes(sum)) {
-                    return false;
+                    System.arraycopy(factor, DEGREE * i, factor, DEGREE * kept, size[i]);
+                    size[kept] = size[i];
+                    times[kept] = sum;
+                    kept++;
                 }
             }
-            return true;
+            items = kept;
         }
 
         private boolean isSameItem(int i, int k) {
