@@ -2321,9 +2321,9 @@ public final class ScriptSolver {
                 case BVASHR:
                     return words.node(Words.LEFT + op - BVSHL, w, x, y, 0);
                 case BVUDIV:
-                    return words.part(words.node(Words.RATIO, 2 * w, x, y, 0), w - 1, 0);
+                    return words.part(ratio(x, y), w - 1, 0);
                 case BVUREM:
-                    return words.part(words.node(Words.RATIO, 2 * w, x, y, 0), 2 * w - 1, w);
+                    return words.part(ratio(x, y), 2 * w - 1, w);
                 case BVSDIV:
                 case BVSREM:
                 case BVSMOD:
@@ -2333,13 +2333,23 @@ public final class ScriptSolver {
             }
         }
 
+        /** Quotient and rest; of a number to itself they are known without division. */
+        private int ratio(int x, int y) {
+            int w = words.width[x];
+            if (x != y) {
+                return words.node(Words.RATIO, 2 * w, x, y, 0);
+            }
+            int one = words.ite(words.isZero(x), words.number(w, -1), words.number(w, 1));
+            return words.join(words.number(w, 0), one);
+        }
+
         private int signedRatio(int op, int x, int y) {
             int w = words.width[x];
             int minusX = words.sign(x);
             int minusY = words.sign(y);
             int sizeX = words.ite(minusX, words.negative(x), x);
             int sizeY = words.ite(minusY, words.negative(y), y);
-            int ratio = words.node(Words.RATIO, 2 * w, sizeX, sizeY, 0);
+            int ratio = ratio(sizeX, sizeY);
             if (op == BVSDIV) {
                 int quotient = words.part(ratio, w - 1, 0);
                 return words.ite(words.xor(minusX, minusY), words.negative(quotient), quotient);
@@ -3296,7 +3306,10 @@ public final class ScriptSolver {
             return sum;
         }
 
-        /** Row by row; the part of which more bits are known tells which rows there are. */
+        /**
+         * Row by row; the part of which more bits are known tells which rows there are. A number has digits 1, 0 and -1,
+         * so that few are not 0; in a square each product of two bits stands for both of its places.
+         */
         private void multiply() {
             int rows = x;
             int line = y;
@@ -3304,18 +3317,34 @@ public final class ScriptSolver {
                 rows = y;
                 line = x;
             }
-            for (int k = 0; k < width; k++) {
-                bits[at + k] = net.and(bits[rows], bits[line + k]);
-            }
-            for (int r = 1; r < width; r++) {
-                int carry = Net.FALSE;
-                for (int k = r; k < width && bits[rows + r] != Net.FALSE; k++) {
-                    int p = net.and(bits[rows + r], bits[line + k - r]);
+            boolean isNumber = constants(rows) == width;
+            boolean isSquare = !isNumber && x == y;
+            int over = 0;
+            Arrays.fill(bits, at, at + width, Net.FALSE);
+            for (int r = 0; r < width; r++) {
+                int by = bits[rows + r];
+                int flip = 0;
+                if (isNumber) {
+                    int digit = over + (by ^ 1);
+                    flip = digit == 1 && r + 1 < width && bits[rows + r + 1] == Net.TRUE ? 1 : 0;
+                    over = digit > 1 ? 1 : flip;
+                    by = digit == 1 ? Net.TRUE : Net.FALSE;
+                }
+                int carry = Net.FALSE ^ flip;
+                for (int k = isSquare ? 2 * r : r; k < width && by != Net.FALSE; k++) {
+                    int p = isSquare ? squareBit(line, r, k) : net.and(by, bits[line + k - r] ^ flip);
                     int q = bits[at + k];
                     bits[at + k] = net.parity(p, q, carry);
                     carry = k + 1 < width ? net.majority(p, q, carry) : Net.FALSE;
                 }
             }
+        }
+
+        private int squareBit(int line, int r, int k) {
+            if (k <= 2 * r + 1) {
+                return k == 2 * r ? bits[line + r] : Net.FALSE;
+            }
+            return net.and(bits[line + r], bits[line + k - r - 1]);
         }
 
         /** As on paper, bit by bit; the rest has no more bits than have been taken down. */
@@ -3504,7 +3533,7 @@ public final class ScriptSolver {
             heap = roomFor(heap, variables);
             place = roomFor(place, variables);
             for (int v = known; v < variables; v++) {
-                weight[v] = 0;
+                weight[v] = Math.max(0, LIGHTEST - v);
                 place[v] = -1;
                 insert(v);
             }
@@ -4892,19 +4921,43 @@ public final class ScriptSolver {
 
         /** Each bit of a word, the highest first, becomes 0 if it can. */
         private void makeLeast(int word) {
+            boolean isGuess = true;
             for (int k = encoder.wordWidth(word) - 1; k >= 0; k--) {
                 int literal = encoder.bit(word, k);
-                if (pinned[literal >> 1] == model || sat.isKnown(literal)) {
+                if (isSettled(literal)) {
                     continue;
+                }
+                // That all the rest is 0 is often so, and is found much sooner than by one bit.
+                if (isGuess && sat.isTrue(literal)) {
+                    sat.solve(assumed + assumeZeros(word, k));
+                    isGuess = false;
                 }
                 if (sat.isTrue(literal)) {
                     sat.assume(assumed, literal ^ 1);
                     sat.solve(assumed + 1);
                 }
+                isGuess |= sat.isTrue(literal);
                 sat.assume(assumed, sat.isTrue(literal) ? literal : literal ^ 1);
                 assumed++;
                 pinned[literal >> 1] = model;
             }
+        }
+
+        private boolean isSettled(int literal) {
+            return pinned[literal >> 1] == model || sat.isKnown(literal);
+        }
+
+        /** This bit of a word and all below it are to be 0 in the next search; answers how many literals that are. */
+        private int assumeZeros(int word, int high) {
+            int more = 0;
+            for (int k = high; k >= 0; k--) {
+                int literal = encoder.bit(word, k);
+                if (!isSettled(literal)) {
+                    sat.assume(assumed + more, literal ^ 1);
+                    more++;
+                }
+            }
+            return more;
         }
 
         private void printValue(int sort, int word) {

@@ -65,6 +65,16 @@ public final class HardChecksTest {
         numbers(32).prints("(check-sat-assuming ((= (bvmul x x) #x12345679)))(get-value (x))", "sat", "((x #b00110000100100001110000100001011))");
     }
 
+    private static void leastValues() {
+        String ratio = "(bvuge (bvsdiv x (bvmul #xffffffff x)) x)";
+        numbers(32).prints("(check-sat-assuming ((= " + ratio + " (bvsle x #x00000000))))(get-value (x))", "sat", "((x #b00000000000000000000000000000000))");
+        numbers(20).prints("(check-sat-assuming ((bvsle #xfffff (bvsub (bvsub x #x80000) (bvmul #xfffff x)))))(get-value (x))", "sat", "((x #b01000000000000000000))");
+        numbers(24).prints("(check-sat-assuming ((distinct (bvshl (bvsrem x x) y) (bvmul y (bvudiv y (bvmul #xffffff y))))))(get-value (x y))", "sat",
+                "((x #b000000000000000000000000) (y #b100000000000000000000000))");
+        numbers(32).prints("(check-sat-assuming ((= (bvmul y (bvmul y x)) (bvadd (bvsrem x y) (bvsub x y)))))(get-value (x y))", "sat",
+                "((x #b00000000000000000000000000000000) (y #b00000000000000000000000000000000))");
+    }
+
     private static void holes() {
         for (int n = 4; n <= 10; n++) {
             Script s = new Script(SENTENCE);
@@ -127,6 +137,7 @@ public final class HardChecksTest {
         laws();
         orders();
         factors();
+        leastValues();
         holes();
         floats();
         functions();

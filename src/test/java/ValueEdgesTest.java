@@ -27,6 +27,42 @@ public final class ValueEdgesTest {
         some.prints("(check-sat-assuming ((distinct (bvashr x n) (bvneg ((_ zero_extend 5) ((_ extract 5 5) x))))))", "unsat");
     }
 
+    private static String bits(int width, int n) {
+        String ones = Integer.toBinaryString(n & (1 << width) - 1);
+        return "#b" + "0".repeat(width - ones.length()) + ones;
+    }
+
+    /** One part is known and the other one is not, or both are the same. */
+    private static void products() {
+        for (int w = 1; w <= 5; w++) {
+            for (int x = 0; x < 1 << w; x++) {
+                Script s = new Script("bvmul, bvudiv, bvurem, bvsdiv, bvsrem, bvsmod of " + x + ", of " + w + " bits");
+                s.does("(declare-const x (_ BitVec " + w + "))(assert (= x " + bits(w, x) + "))(push 1)").prints("(check-sat)", "sat");
+                for (int c = 0; c < 1 << w; c++) {
+                    s.value("(bvmul x " + bits(w, c) + ")", bits(w, x * c)).value("(bvmul " + bits(w, c) + " x)", bits(w, x * c));
+                }
+                s.value("(bvmul x x)", bits(w, x * x)).value("(bvmul x x x)", bits(w, x * x * x));
+                s.value("(bvudiv x x)", bits(w, x == 0 ? -1 : 1)).value("(bvsdiv x x)", bits(w, x == 0 ? -1 : 1));
+                s.value("(bvurem x x)", bits(w, 0)).value("(bvsrem x x)", bits(w, 0)).value("(bvsmod x x)", bits(w, 0));
+            }
+        }
+    }
+
+    /** As above, but the search knows nothing of the number before it is assumed. */
+    private static void assumedProducts() {
+        int w = 4;
+        for (int c = 0; c < 1 << w; c++) {
+            Script s = new Script("bvmul, bvudiv, bvurem with " + c + ", of " + w + " bits");
+            s.does("(declare-const x (_ BitVec " + w + "))(declare-const y (_ BitVec " + w + "))(declare-const z (_ BitVec " + w + "))");
+            s.does("(assert (= y (bvmul x " + bits(w, c) + ")))(assert (= z (bvmul x x)))");
+            for (int x = 0; x < 1 << w; x++) {
+                s.prints("(check-sat-assuming ((= x " + bits(w, x) + ")))", "sat");
+                s.prints("(get-value (y z (bvudiv x x) (bvurem x x)))",
+                        "((y " + bits(w, x * c) + ") (z " + bits(w, x * x) + ") ((bvudiv x x) " + bits(w, x == 0 ? -1 : 1) + ") ((bvurem x x) " + bits(w, 0) + "))");
+            }
+        }
+    }
+
     private static void divisions() {
         Script s = ready("A division by 0 without sign: all ones, the rest is what is divided");
         s.value("(bvudiv #b0101 #b0000)", "#b1111").value("(bvurem #b0101 #b0000)", "#b0101").value("(bvudiv #b0000 #b0000)", "#b1111").value("(bvurem #b0000 #b0000)", "#b0000");
@@ -227,6 +263,8 @@ public final class ValueEdgesTest {
 
     public static void main(String[] args) {
         shifts();
+        products();
+        assumedProducts();
         divisions();
         wrapAround();
         beyondTheGreatest();
