@@ -212,6 +212,23 @@ public final class TapeEdgesTest {
         s.refuses("(assert " + "(not ".repeat(100), "syntax").shows(0, 0);
     }
 
+    /** What was behind the end is gone, whatever it was. */
+    private static void cutTapes() {
+        String script = "(echo \"a\"\"b\") |a b| #b0101 #xaF :key word 1234 ; comment\n(push 12)(declare-const |a\n| (_ BitVec 12))(check-sat) ";
+        for (int n = 0; n <= script.length(); n++) {
+            Script cut = new Script("The TAPE keeps its first n bytes, n 0 .. its length.");
+            Script fed = new Script("The TAPE keeps its first n bytes, n 0 .. its length.");
+            cut.feed(script).due("end(" + n + ")", cut.x.end(n), n);
+            fed.feed(script.substring(0, n));
+            cut.due("end(" + n + "), run()", cut.x.run(), fed.x.run());
+            cut.due("end(" + n + "), the result", cut.result(), fed.result());
+            cut.due("end(" + n + "), the state", cut.state(), fed.state());
+            cut.shows(0, fed.x.count(0));
+            cut.feed(script.substring(n)).x.run();
+            cut.shows(2, 12).shows(3, 1).shows(6, 1).shows(0, 1);
+        }
+    }
+
     public static void main(String[] args) {
         tapeIsFull();
         tapeKeepsWhatIsRefused();
@@ -227,6 +244,7 @@ public final class TapeEdgesTest {
         notWhole();
         closed();
         deep();
+        cutTapes();
         Script.end();
     }
 }
