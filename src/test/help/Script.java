@@ -1,4 +1,5 @@
 import java.nio.charset.StandardCharsets;
+import java.util.List;
 
 /** One object under test; what it answers is held against what is due, under the sentence that asks for it. */
 final class Script {
@@ -105,6 +106,16 @@ final class Script {
     /** The TERM has this value in THE MODEL. */
     Script value(String term, String value) {
         return prints("(get-value (" + term + "))", "((" + term + " " + value + "))");
+    }
+
+    /** The TERMS, asked for at once under what is assumed, have these values. */
+    Script asks(String assumed, List<String> terms, List<String> values) {
+        StringBuilder want = new StringBuilder("(");
+        for (int k = 0; k < terms.size(); k++) {
+            want.append(k == 0 ? "(" : " (").append(terms.get(k)).append(' ').append(values.get(k)).append(')');
+        }
+        String script = "(check-sat-assuming (" + assumed + "))(get-value (" + String.join(" ", terms) + "))";
+        return prints(script, "sat", want.append(')').toString());
     }
 
     private static String brief(String script) {
