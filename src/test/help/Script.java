@@ -34,7 +34,8 @@ final class Script {
         }
     }
 
-    private static int four(byte[] bytes, int at) {
+    /** Four bytes as an int, blanks behind their end. */
+    static int four(byte[] bytes, int at) {
         int sum = 0;
         for (int k = 0; k < 4; k++) {
             sum = sum << 8 | (at + k < bytes.length ? bytes[at + k] & 255 : 32);
@@ -43,17 +44,16 @@ final class Script {
     }
 
     /** A text comes to THE TAPE, byte for byte. */
-    Script feed(String text) {
+    static void feed(ScriptSolver x, String text) {
         byte[] bytes = text.getBytes(StandardCharsets.ISO_8859_1);
         int before = x.count(0);
         for (int at = 0; at < bytes.length; at += 20) {
             x.feed(four(bytes, at), four(bytes, at + 4), four(bytes, at + 8), four(bytes, at + 12), four(bytes, at + 16));
         }
         x.end(before + bytes.length);
-        return this;
     }
 
-    String result() {
+    static String result(ScriptSolver x) {
         StringBuilder text = new StringBuilder();
         int length = x.count(1);
         for (int at = 0; at < length; at += 8) {
@@ -63,6 +63,15 @@ final class Script {
             }
         }
         return text.toString();
+    }
+
+    Script feed(String text) {
+        feed(x, text);
+        return this;
+    }
+
+    String result() {
+        return result(x);
     }
 
     /** These COMMANDS print these lines. */

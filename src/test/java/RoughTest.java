@@ -58,14 +58,6 @@ public final class RoughTest {
         return bytes;
     }
 
-    private static int int4(byte[] bytes, int at) {
-        int sum = 0;
-        for (int k = 0; k < 4; k++) {
-            sum = sum << 8 | (at + k < bytes.length ? bytes[at + k] & 255 : 32);
-        }
-        return sum;
-    }
-
     private static void strayCalls(ScriptSolver x, Random random) {
         int number = random.nextBoolean() ? random.nextInt() : random.nextInt(400) - 100;
         try {
@@ -101,7 +93,7 @@ public final class RoughTest {
         for (int round = 0; round < rounds; round++) {
             byte[] bytes = spoilt(scripts.get(random.nextInt(scripts.size())), random);
             for (int at = 0; at < bytes.length; at += 20) {
-                x.feed(int4(bytes, at), int4(bytes, at + 4), int4(bytes, at + 8), int4(bytes, at + 12), int4(bytes, at + 16));
+                x.feed(Script.four(bytes, at), Script.four(bytes, at + 4), Script.four(bytes, at + 8), Script.four(bytes, at + 12), Script.four(bytes, at + 16));
                 if (random.nextInt(20) == 0) {
                     x.run();
                 }

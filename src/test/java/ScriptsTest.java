@@ -17,7 +17,7 @@ public final class ScriptsTest {
     private static int wrong = 0;
     private static int runs = 0;
 
-    private static byte[] bytesOf(String text) {
+    private static String plain(String text) {
         StringBuilder plain = new StringBuilder();
         for (int i = 0; i < text.length(); i++) {
             char c = text.charAt(i);
@@ -31,35 +31,7 @@ public final class ScriptsTest {
                 i++;
             }
         }
-        return plain.toString().getBytes(StandardCharsets.ISO_8859_1);
-    }
-
-    private static int int4(byte[] bytes, int at) {
-        int sum = 0;
-        for (int k = 0; k < 4; k++) {
-            sum = sum << 8 | (at + k < bytes.length ? bytes[at + k] & 255 : 32);
-        }
-        return sum;
-    }
-
-    private static void feed(ScriptSolver x, byte[] bytes) {
-        int before = x.count(0);
-        for (int at = 0; at < bytes.length; at += 20) {
-            x.feed(int4(bytes, at), int4(bytes, at + 4), int4(bytes, at + 8), int4(bytes, at + 12), int4(bytes, at + 16));
-        }
-        x.end(before + bytes.length);
-    }
-
-    private static String result(ScriptSolver x) {
-        StringBuilder text = new StringBuilder();
-        int length = x.count(1);
-        for (int at = 0; at < length; at += 8) {
-            long word = x.word(at);
-            for (int k = 0; k < 8 && at + k < length; k++) {
-                text.append((char) (word >>> 56 - 8 * k & 255));
-            }
-        }
-        return text.toString();
+        return plain.toString();
     }
 
     private static void due(String where, String got, String want) {
@@ -71,9 +43,9 @@ public final class ScriptsTest {
 
     private static void oneRun(String where, ScriptSolver x, String script, String want, String counts) {
         runs++;
-        feed(x, bytesOf(script));
+        Script.feed(x, plain(script));
         int commands = x.run();
-        due(where, result(x), new String(bytesOf(want), StandardCharsets.ISO_8859_1));
+        due(where, Script.result(x), plain(want));
         String got = "-- commands=" + commands + " tape=" + x.count(0) + " level=" + x.count(2) + " names=" + x.count(3)
                 + " assertions=" + x.count(4) + " weight=" + x.count(5) + " mode=" + x.count(6);
         due(where, got, counts);
